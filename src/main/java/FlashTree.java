@@ -38,7 +38,7 @@ public final class FlashTree {
 
     private final Flash flash;
     private final Folder[] folders;
-    /** Which folders are there, while the tree is mounted. */
+    /** Which folders are there, from the reading of their logs in mount() till the tree is unmounted. */
     private final boolean[] there;
     /** Which folders are reached from the one that is to be moved. */
     private final boolean[] below;
@@ -103,12 +103,11 @@ public final class FlashTree {
     }
 
     public int make(int d, int name) {
-        int refused = refusal();
-        if (refused != ALLOWED) {
-            return refused;
-        }
         Folder parent = folderThere(d);
-        if (parent == null || !isName(name)) {
+        if (parent == null) {
+            return refusal();
+        }
+        if (!isName(name)) {
             return WRONG;
         }
         if (parent.list.find(name) != NONE) {
@@ -128,12 +127,11 @@ public final class FlashTree {
     }
 
     public int write(int d, int name, int n, long v) {
-        int refused = refusal();
-        if (refused != ALLOWED) {
-            return refused;
-        }
         Folder folder = folderThere(d);
-        if (folder == null || !isName(name) || n < 0 || n > MAX_FILE_BYTES) {
+        if (folder == null) {
+            return refusal();
+        }
+        if (!isName(name) || n < 0 || n > MAX_FILE_BYTES) {
             return WRONG;
         }
         int k = folder.list.find(name);
@@ -149,13 +147,9 @@ public final class FlashTree {
     }
 
     public int remove(int d, int name) {
-        int refused = refusal();
-        if (refused != ALLOWED) {
-            return refused;
-        }
         Folder folder = folderThere(d);
         if (folder == null) {
-            return WRONG;
+            return refusal();
         }
         int k = folder.list.find(name);
         if (k == NONE) {
@@ -171,23 +165,19 @@ public final class FlashTree {
     }
 
     public int rename(int d, int name, int e, int to) {
-        int refused = refusal();
-        if (refused != ALLOWED) {
-            return refused;
-        }
         Folder source = folderThere(d);
         Folder target = folderThere(e);
-        if (source == null || target == null || !isName(to)) {
-            return WRONG;
+        if (source == null || target == null) {
+            return refusal();
         }
         int k = source.list.find(name);
-        if (k == NONE) {
+        if (k == NONE || !isName(to)) {
             return WRONG;
         }
         if (d == e && name == to) {
             return 0;
         }
-        refused = moveRefusal(source, k, target, to);
+        int refused = moveRefusal(source, k, target, to);
         if (refused != ALLOWED) {
             return refused;
         }
@@ -196,22 +186,14 @@ public final class FlashTree {
     }
 
     public int entry(int d, int k) {
-        int refused = refusal();
-        if (refused != ALLOWED) {
-            return refused;
-        }
         Folder folder = folderThere(d);
-        return folder == null ? WRONG : folder.list.nameAt(k);
+        return folder == null ? refusal() : folder.list.nameAt(k);
     }
 
     public int kind(int d, int name) {
-        int refused = refusal();
-        if (refused != ALLOWED) {
-            return refused;
-        }
         Folder folder = folderThere(d);
         if (folder == null) {
-            return WRONG;
+            return refusal();
         }
         int k = folder.list.find(name);
         if (k == NONE) {
@@ -221,48 +203,35 @@ public final class FlashTree {
     }
 
     public int size(int d, int name) {
-        int refused = refusal();
-        if (refused != ALLOWED) {
-            return refused;
-        }
         Folder folder = folderThere(d);
         if (folder == null) {
-            return WRONG;
+            return refusal();
         }
         int k = folder.list.findFile(name);
         return k == NONE ? WRONG : folder.list.lengthAt(k);
     }
 
     public long data(int d, int name) {
-        int refused = refusal();
-        if (refused != ALLOWED) {
-            return refused;
-        }
         Folder folder = folderThere(d);
         if (folder == null) {
-            return WRONG;
+            return refusal();
         }
         int k = folder.list.findFile(name);
         return k == NONE ? WRONG : folder.list.contentAt(k);
     }
 
     public int child(int d, int name) {
-        int refused = refusal();
-        if (refused != ALLOWED) {
-            return refused;
-        }
         Folder folder = folderThere(d);
         if (folder == null) {
-            return WRONG;
+            return refusal();
         }
         int k = folder.list.find(name);
         return folder.list.isFolder(k) ? folder.list.pairAt(k) : WRONG;
     }
 
     public int free() {
-        int refused = refusal();
-        if (refused != ALLOWED) {
-            return refused;
+        if (!mounted) {
+            return refusal();
         }
         int count = 0;
         for (int q = 0; q < PAIRS; q++) {
@@ -285,12 +254,12 @@ public final class FlashTree {
         return flash.unitsDone();
     }
 
-    /** What every call on the tree is refused with, before its numbers are looked at. */
+    /** Why a call finds no folder: without power or a mounted tree it finds none at all. */
     private int refusal() {
         if (flash.isDark()) {
             return POWER_OFF;
         }
-        return mounted ? ALLOWED : NOT_MOUNTED;
+        return mounted ? WRONG : NOT_MOUNTED;
     }
 
     /** The answer of a call that has changed the tree, or lost its power in it. */
@@ -315,8 +284,12 @@ public final class FlashTree {
         return isPair(q) ? folders[q] : null;
     }
 
-    private Folder folderThere(int q) {
+    private Folder folderReached(int q) {
         return isPair(q) && there[q] ? folders[q] : null;
+    }
+
+    private Folder folderThere(int q) {
+        return mounted ? folderReached(q) : null;
     }
 
     private int lowestFreePair() {
@@ -360,7 +333,7 @@ public final class FlashTree {
     /** Brings a move to its end that a power failure cut off behind its first commit. */
     private boolean finishMove() {
         for (int q = 0; q < PAIRS; q++) {
-            Folder marked = folderThere(q);
+            Folder marked = folderReached(q);
             if (marked != null && marked.list.hasMark()) {
                 return finishMoveTo(marked);
             }
@@ -370,7 +343,7 @@ public final class FlashTree {
 
     private boolean finishMoveTo(Folder marked) {
         int name = marked.list.markName;
-        Folder source = folderThere(marked.list.markPair);
+        Folder source = folderReached(marked.list.markPair);
         if (source != null && source.list.find(name) != NONE) {
             change.clear();
             change.addGone(name);
@@ -713,8 +686,11 @@ public final class FlashTree {
                     markPair = first;
                     markName = second;
                     return 3;
-                default:
+                case OP_NO_MARK:
                     markPair = NONE;
+                    return 1;
+                default:
+                    // No log holds another operation; passing over its byte keeps the reading in motion.
                     return 1;
             }
         }

@@ -1,0 +1,109 @@
+import java.util.ArrayList;
+import java.util.List;
+
+/** Cuts calls off behind every unit: then the tree is the one from before the call, or the one that it would leave. */
+public final class PowerCutTest {
+    private interface Call {
+        int on(FlashTree x);
+    }
+
+    private static final Due due = new Due();
+
+    public static void main(String[] args) {
+        List<Call> setUp = List.of(
+            x -> x.format(), x -> x.mount(),
+            x -> x.make(0, 1), x -> x.make(0, 2), x -> x.make(1, 3),
+            x -> x.write(1, 9, 6, -1), x -> x.write(2, 9, 1, 5), x -> x.write(2, 8, 0, 0), x -> x.write(3, 7, 2, 700));
+        List<Call> changes = List.of(
+            x -> x.make(2, 4), x -> x.write(1, 9, 2, 77), x -> x.write(1, 5, 6, 1), x -> x.remove(3, 7),
+            x -> x.rename(1, 9, 1, 4), x -> x.rename(1, 9, 2, 9), x -> x.rename(1, 9, 0, 9),
+            x -> x.rename(1, 3, 2, 3), x -> x.rename(2, 9, 3, 7), x -> x.rename(0, 2, 3, 2));
+        for (int padding = 0; padding < 6; padding++) {
+            for (int i = 0; i < changes.size(); i++) {
+                cutEverywhere("change " + i + ", padding " + padding, padded(setUp, padding), changes.get(i), 0);
+            }
+            cutEverywhere("format, padding " + padding, padded(setUp, padding), x -> {
+                int answer = x.format();
+                return answer == 0 ? x.mount() : answer;
+            }, 0);
+        }
+        // A mount that ends a move may be cut off too, again and again.
+        for (int again = 1; again < 8; again++) {
+            cutEverywhere("cut " + again + " times more", setUp, changes.get(5), again);
+            cutEverywhere("cut " + again + " times more", setUp, changes.get(7), again);
+        }
+        due.end();
+    }
+
+    /** Writes more into the logs, so that other commits come upon a full block. */
+    private static List<Call> padded(List<Call> setUp, int padding) {
+        List<Call> calls = new ArrayList<>(setUp);
+        for (int i = 0; i < padding; i++) {
+            int v = i;
+            calls.add(x -> x.write(1, 9, 6, v));
+            calls.add(x -> x.write(2, 9, 4, v));
+            calls.add(x -> x.rename(0, v == 0 ? 1 : 49 + v, 0, 50 + v));
+        }
+        return calls;
+    }
+
+    private static FlashTree prepared(String what, List<Call> setUp) {
+        FlashTree x = new FlashTree();
+        for (Call call : setUp) {
+            due.holds(what + ": set up", call.on(x) >= 0);
+        }
+        return x;
+    }
+
+    private static void cutEverywhere(String what, List<Call> setUp, Call change, int again) {
+        FlashTree whole = prepared(what, setUp);
+        String before = tree(whole);
+        int units = whole.units();
+        due.holds(what + ": the call uncut", change.on(whole) >= 0);
+        units = whole.units() - units;
+        String after = tree(whole);
+        due.holds(what + ": the call changes the tree", !before.equals(after));
+        boolean wasAfter = false;
+        for (int k = 0; k < units; k++) {
+            String when = what + ", cut after " + k + " of " + units;
+            FlashTree x = prepared(what, setUp);
+            x.cut(k);
+            due.same(when, change.on(x), -9);
+            due.holds(when + ": off", x.off());
+            x.on();
+            for (int i = 0; i < again; i++) {
+                x.cut(i);
+                due.holds(when + ": mount", x.mount() == (x.off() ? -9 : 0));
+                x.cut(-1);
+                x.on();
+            }
+            due.same(when + ": mount", x.mount(), 0);
+            String now = tree(x);
+            due.holds(when + ": tree " + now, now.equals(before) || now.equals(after));
+            due.holds(when + ": what was done stays done", !wasAfter || now.equals(after));
+            wasAfter = now.equals(after);
+            if (!wasAfter) {
+                due.holds(when + ": the call again", change.on(x) >= 0);
+                due.holds(when + ": the call again, tree", tree(x).equals(after));
+            }
+        }
+    }
+
+    private static String tree(FlashTree x) {
+        return "free " + x.free() + " " + tree(x, 0);
+    }
+
+    private static String tree(FlashTree x, int d) {
+        StringBuilder text = new StringBuilder("(");
+        for (int k = 0; x.entry(d, k) > 0; k++) {
+            int name = x.entry(d, k);
+            text.append(' ').append(name);
+            if (x.kind(d, name) == 2) {
+                text.append(tree(x, x.child(d, name)));
+            } else {
+                text.append(':').append(x.size(d, name)).append(':').append(x.data(d, name));
+            }
+        }
+        return text.append(')').toString();
+    }
+}
