@@ -4,6 +4,12 @@ final class Due {
 
     private int wrong = 0;
     private int asked = 0;
+    private String sentence = "";
+
+    /** Names the sentence that the answers from now on stand for. */
+    void under(String text) {
+        sentence = text + ": ";
+    }
 
     void same(String call, long got, long want) {
         asked++;
@@ -12,7 +18,7 @@ final class Due {
             if (wrong > MOST_PRINTED) {
                 return;
             }
-            System.out.println(call + " answered " + got + ", due is " + want);
+            System.out.println(sentence + call + " answered " + got + ", due is " + want);
         }
     }
 
@@ -22,6 +28,10 @@ final class Due {
 
     int wrong() {
         return wrong;
+    }
+
+    int asked() {
+        return asked;
     }
 
     /** Ends the program, with exit code 1 if an answer was wrong. */

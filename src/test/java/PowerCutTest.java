@@ -2,37 +2,55 @@ import java.util.ArrayList;
 import java.util.List;
 
 /** Cuts calls off behind every unit: then the tree is the one from before the call, or the one that it would leave. */
-public final class PowerCutTest {
+public final class PowerCutTest extends Sentences {
     private interface Call {
         int on(FlashTree x);
     }
 
-    private static final Due due = new Due();
+    private static final List<Call> SET_UP = List.of(
+        x -> x.format(), x -> x.mount(),
+        x -> x.make(0, 1), x -> x.make(0, 2), x -> x.make(1, 3),
+        x -> x.write(1, 9, 6, -1), x -> x.write(2, 9, 1, 5), x -> x.write(2, 8, 0, 0), x -> x.write(3, 7, 2, 700));
+    private static final List<Call> CHANGES = List.of(
+        x -> x.make(2, 4), x -> x.write(1, 9, 2, 77), x -> x.write(1, 5, 6, 1), x -> x.remove(3, 7),
+        x -> x.rename(1, 9, 1, 4), x -> x.rename(1, 3, 1, 4));
+    private static final List<Call> MOVES = List.of(
+        x -> x.rename(1, 9, 2, 9), x -> x.rename(1, 9, 0, 9), x -> x.rename(1, 3, 2, 3),
+        x -> x.rename(2, 9, 3, 7), x -> x.rename(0, 2, 3, 2));
+    private static final int MOST_PADDING = 6;
 
-    public static void main(String[] args) {
-        List<Call> setUp = List.of(
-            x -> x.format(), x -> x.mount(),
-            x -> x.make(0, 1), x -> x.make(0, 2), x -> x.make(1, 3),
-            x -> x.write(1, 9, 6, -1), x -> x.write(2, 9, 1, 5), x -> x.write(2, 8, 0, 0), x -> x.write(3, 7, 2, 700));
-        List<Call> changes = List.of(
-            x -> x.make(2, 4), x -> x.write(1, 9, 2, 77), x -> x.write(1, 5, 6, 1), x -> x.remove(3, 7),
-            x -> x.rename(1, 9, 1, 4), x -> x.rename(1, 9, 2, 9), x -> x.rename(1, 9, 0, 9),
-            x -> x.rename(1, 3, 2, 3), x -> x.rename(2, 9, 3, 7), x -> x.rename(0, 2, 3, 2));
-        for (int padding = 0; padding < 6; padding++) {
-            for (int i = 0; i < changes.size(); i++) {
-                cutEverywhere("change " + i + ", padding " + padding, padded(setUp, padding), changes.get(i), 0);
+    public static void main(String[] args) throws Exception {
+        run(PowerCutTest.class);
+    }
+
+    @Says(at = "Terms", text = "mounting shows the tree as it was before the call that was cut off, or as that call would have left it")
+    static void aCallThatWasCutOffIsDoneOrNotDone() {
+        for (int padding = 0; padding < MOST_PADDING; padding++) {
+            for (int i = 0; i < CHANGES.size(); i++) {
+                cutEverywhere("change " + i + ", padding " + padding, padded(SET_UP, padding), CHANGES.get(i), 0);
             }
-            cutEverywhere("format, padding " + padding, padded(setUp, padding), x -> {
+            cutEverywhere("format, padding " + padding, padded(SET_UP, padding), x -> {
                 int answer = x.format();
                 return answer == 0 ? x.mount() : answer;
             }, 0);
         }
-        // A mount that ends a move may be cut off too, again and again.
-        for (int again = 1; again < 8; again++) {
-            cutEverywhere("cut " + again + " times more", setUp, changes.get(5), again);
-            cutEverywhere("cut " + again + " times more", setUp, changes.get(7), again);
+    }
+
+    @Says(at = "Terms", text = "Moving an entry from one folder to another is such a call too, though it changes two logs.")
+    static void aMoveThatWasCutOffIsDoneOrNotDone() {
+        for (int padding = 0; padding < MOST_PADDING; padding++) {
+            for (int i = 0; i < MOVES.size(); i++) {
+                cutEverywhere("move " + i + ", padding " + padding, padded(SET_UP, padding), MOVES.get(i), 0);
+            }
         }
-        due.end();
+    }
+
+    @Says(at = "Terms", text = "Moving an entry from one folder to another is such a call too, though it changes two logs.")
+    static void aMountThatEndsAMoveMayBeCutOffAgainAndAgain() {
+        for (int again = 1; again < 8; again++) {
+            cutEverywhere("cut " + again + " times more", SET_UP, MOVES.get(0), again);
+            cutEverywhere("cut " + again + " times more", SET_UP, MOVES.get(2), again);
+        }
     }
 
     /** Writes more into the logs, so that other commits come upon a full block. */

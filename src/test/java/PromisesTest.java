@@ -1,748 +1,1288 @@
-/** Every promise of the document: ordinary calls, the edges that it names, and wrong numbers. */
-public final class PromisesTest {
-    private static final Due due = new Due();
+/** The sentences of the promises 1 to 19: each has a test of its own, with ordinary numbers, edges and wrong ones. */
+public final class PromisesTest extends Sentences {
+    private static final int[] NO_FOLDERS = {-1, 3, 7, 8, 256, Integer.MIN_VALUE, Integer.MAX_VALUE};
+    private static final int[] NO_NAMES = {0, 100, -1, 256, Integer.MIN_VALUE, Integer.MAX_VALUE};
 
-    public static void main(String[] args) {
-        newObject();
-        cut();
-        offAndOn();
-        format();
-        formatOverOldTree();
-        revisionGoesRound();
-        mount();
-        mountFinishesMove();
-        make();
-        makeRefused();
-        makeBeginsUsedPair();
-        write();
-        writeRefused();
-        commitAtTheEdgeOfTheBlock();
-        commitBehindATornRecord();
-        remove();
-        renameWithin();
-        renameAcross();
-        renameRefused();
-        renameIntoItself();
-        entryKindSizeDataChild();
-        free();
-        byteAtWearUnits();
-        refusedInOrder();
-        due.end();
+    public static void main(String[] args) throws Exception {
+        run(PromisesTest.class);
     }
 
-    private static FlashTree mounted() {
-        FlashTree x = new FlashTree();
-        due.same("format()", x.format(), 0);
-        due.same("mount()", x.mount(), 0);
-        return x;
-    }
+    // 1: a new object
 
-    private static void bytes(String what, FlashTree x, int block, int from, int... want) {
-        for (int i = 0; i < want.length; i++) {
-            due.same(what + ": byteAt(" + block + ", " + (from + i) + ")", x.byteAt(block, from + i), want[i]);
-        }
-    }
-
-    private static void names(String what, FlashTree x, int d, int... want) {
-        for (int k = 0; k < 5; k++) {
-            due.same(what + ": entry(" + d + ", " + k + ")", x.entry(d, k), k < want.length ? want[k] : 0);
-        }
-    }
-
-    private static void newObject() {
-        FlashTree x = new FlashTree();
+    @Says(at = "Promise 1", text = "All bytes 255, no unit used, no cut set, nothing mounted.")
+    static void p01NewObject() {
+        Asked x = fresh();
+        x.byteAt(0, 0).is(255);
+        x.byteAt(15, 63).is(255);
+        x.units().is(0);
         for (int block = 0; block < 16; block++) {
-            for (int offset = 0; offset < 64; offset += 9) {
-                due.same("new: byteAt", x.byteAt(block, offset), 255);
-            }
-            due.same("new: wear", x.wear(block), 0);
+            x.wear(block).is(0);
         }
-        due.same("new: units", x.units(), 0);
-        due.holds("new: on", !x.off());
-        due.same("new: free", x.free(), -8);
-        due.same("new: mount", x.mount(), -7);
-        due.same("new: format", x.format(), 0);
+        x.off().is(0);
+        allRefused(x, -8);
+        x.mount().is(-7);
+        // No cut is set, however many units are used.
+        for (int i = 1; i <= 300; i++) {
+            x.format().is(0);
+        }
+        x.units().is(1200);
+        x.off().is(0);
     }
 
-    private static void cut() {
-        FlashTree x = new FlashTree();
-        x.cut(4);
-        due.same("cut(4): format", x.format(), 0);
-        due.holds("a cut whose units are used up leaves the power on", !x.off());
-        due.same("cut used up: mount", x.mount(), 0);
-        due.same("cut used up: write", x.write(0, 1, 0, 0), -9);
-        due.holds("the next unit puts the power off", x.off());
-        due.same("cut used up: units", x.units(), 4);
-        x.on();
-        due.same("a cut that put the power off is gone", x.mount(), 0);
-        due.same("a cut that put the power off is gone: write", x.write(0, 1, 0, 0), 0);
+    @Says(at = "Promise 1", text = "All bytes 255, no unit used, no cut set, nothing mounted.")
+    static void p01NewObjectBesideAnother() {
+        Asked old = fourEntries();
+        old.cut(0);
+        old.remove(0, 1).is(-9);
+        Asked x = fresh();
+        x.off().is(0);
+        x.units().is(0);
+        x.byteAt(0, 0).is(255);
+        x.wear(0).is(0);
+        x.format().is(0);
+        old.off().is(1);
+        old.byteAt(0, 3).is(4);
+    }
 
+    // 2: cut
+
+    @Says(at = "Promise 2", text = "Sets a cut after k more units")
+    static void p02CutAfterKMoreUnits() {
+        for (int k = 0; k <= 5; k++) {
+            Asked x = mounted();
+            x.cut(k);
+            x.off().is(0);
+            x.write(0, 1, 0, 0).is(k < 5 ? -9 : 0);
+            x.off().is(k < 5 ? 1 : 0);
+            x.units().is(4 + k);
+        }
+    }
+
+    @Says(at = "Promise 2", text = "Sets a cut after k more units")
+    static void p02CutGoesOnFromCallToCall() {
+        Asked x = mounted();
+        x.cut(12);
+        x.write(0, 1, 0, 0).is(0);
+        x.write(0, 2, 0, 0).is(0);
+        x.remove(0, 3).is(-1);
+        x.mount().is(0);
+        x.write(0, 3, 0, 0).is(-9);
+        x.units().is(4 + 12);
+        x.bytes(0, 13, 3, 1, 255);
+    }
+
+    @Says(at = "Promise 2", text = "Sets a cut after k more units")
+    static void p02CutStandsForAnEarlierOne() {
+        Asked x = mounted();
         x.cut(0);
-        x.cut(-1);
-        due.same("cut taken back", x.write(0, 1, 0, 0), 0);
-        x.cut(0);
-        x.cut(Integer.MIN_VALUE);
-        due.same("cut taken back by any number below 0", x.write(0, 1, 0, 0), 0);
-        x.cut(1);
         x.cut(5);
-        due.same("a later cut stands for an earlier one", x.write(0, 1, 0, 0), 0);
+        x.write(0, 1, 0, 0).is(0);
+        x.cut(7);
+        x.write(0, 1, 0, 0).is(0);
+        x.cut(5);
+        x.write(0, 1, 0, 0).is(0);
         x.cut(Integer.MAX_VALUE);
-        due.same("a far cut", x.write(0, 1, 0, 0), 0);
+        x.write(0, 1, 0, 0).is(0);
+        x.cut(1);
+        x.write(0, 1, 0, 0).is(-9);
+        x.units().is(4 + 4 * 5 + 1);
+    }
 
+    @Says(at = "Promise 2", text = "(k below 0: no cut is set any more)")
+    static void p02CutBelow0SetsNoCutAnyMore() {
+        for (int k : new int[] {-1, -2, -256, Integer.MIN_VALUE}) {
+            Asked x = mounted();
+            x.cut(0);
+            x.cut(k);
+            x.write(0, 1, 0, 0).is(0);
+            x.cut(7);
+            x.write(0, 1, 0, 0).is(0);
+            x.cut(k);
+            x.write(0, 1, 0, 0).is(0);
+            x.off().is(0);
+        }
+    }
+
+    @Says(at = "Promise 2", text = "Also while the power is off.")
+    static void p02CutAlsoWhileThePowerIsOff() {
+        Asked x = mounted();
         x.cut(0);
-        due.same("cut(0)", x.remove(0, 1), -9);
+        x.write(0, 1, 0, 0).is(-9);
         x.cut(2);
-        x.on();
-        due.same("cut set while off: mount needs no unit", x.mount(), 0);
-        int before = x.units();
-        due.same("cut set while off", x.write(0, 1, 0, 0), -9);
-        due.same("cut set while off: units", x.units() - before, 2);
+        x.off().is(1);
+        x.mountAgain();
+        x.write(0, 1, 0, 0).is(-9);
+        x.units().is(4 + 2);
+        // Set while off, and no longer set.
         x.cut(3);
         x.cut(-1);
-        due.holds("taking the cut back leaves the power off", x.off());
-        x.on();
-        due.same("cut taken back while off: mount", x.mount(), 0);
-        due.same("cut taken back while off: write", x.write(0, 1, 0, 0), 0);
-    }
-
-    private static void offAndOn() {
-        FlashTree x = mounted();
-        due.holds("off() while on", !x.off());
-        x.on();
-        due.holds("on() while on", !x.off());
-        due.same("on() while on unmounts", x.entry(0, 0), -8);
-        due.same("mount again", x.mount(), 0);
+        x.off().is(1);
+        x.mountAgain();
+        x.write(0, 1, 0, 0).is(0);
+        x.off().is(0);
+        // No unit left: the first one puts the power off again.
         x.cut(0);
-        due.holds("a cut alone puts nothing off", !x.off());
-        due.same("questions use no units", x.entry(0, 0), 0);
-        due.holds("a question under cut(0) leaves the power on", !x.off());
-        due.same("make under cut(0)", x.make(0, 1), -9);
-        due.holds("off", x.off());
-        due.same("format while off", x.format(), -9);
-        due.same("mount while off", x.mount(), -9);
-        due.holds("still off", x.off());
-        due.same("flash stays", x.byteAt(0, 0), 0);
+        x.write(0, 1, 0, 0).is(-9);
+        x.cut(0);
+        x.mountAgain();
+        x.off().is(0);
+        x.write(0, 1, 0, 0).is(-9);
+    }
+
+    @Says(at = "Promise 2", text = "A cut that has put the power off is set no more.")
+    static void p02CutThatHasPutThePowerOffIsSetNoMore() {
+        for (int k = 0; k < 5; k++) {
+            Asked x = mounted();
+            x.cut(k);
+            x.write(0, 1, 0, 0).is(-9);
+            x.mountAgain();
+            for (int i = 0; i < 20; i++) {
+                x.write(0, 1, 0, 0).is(0);
+            }
+            x.off().is(0);
+        }
+    }
+
+    // 3: off
+
+    @Says(at = "Promise 3", text = "Whether the power is off.")
+    static void p03OffOnlyFromTheUnitThatIsNotDoneTillOn() {
+        Asked x = fresh();
+        x.off().is(0);
+        x.cut(0);
+        x.off().is(0);
+        x.mount().is(-7);
+        x.off().is(0);
+        x.format().is(-9);
+        x.off().is(1);
+        x.off().is(1);
+        x.format().is(-9);
+        x.off().is(1);
+        x.cut(5);
+        x.off().is(1);
         x.on();
-        due.holds("on", !x.off());
-        due.same("nothing is mounted after on()", x.free(), -8);
+        x.off().is(0);
+        x.format().is(0);
+        x.off().is(0);
     }
 
-    private static void format() {
-        FlashTree x = new FlashTree();
-        due.same("format", x.format(), 0);
-        due.same("format: units", x.units(), 4);
-        bytes("format", x, 0, 0, 0, 0, 0, 255);
-        bytes("format", x, 1, 0, 255, 255);
-        due.same("format mounts nothing", x.free(), -8);
-        due.same("format again", x.format(), 0);
-        bytes("format again writes the log anew", x, 1, 0, 1, 0, 0, 255);
-        due.same("format again: units", x.units(), 8);
-        due.same("format again: wear", x.wear(1), 1);
-        for (int k = 0; k < 4; k++) {
-            FlashTree y = new FlashTree();
-            y.cut(k);
-            due.same("first format cut", y.format(), -9);
-            y.on();
-            due.same("first format cut: mount", y.mount(), -7);
-            due.same("first format cut: format", y.format(), 0);
-            due.same("first format cut: wear", y.wear(0), k == 0 ? 1 : 2);
-            due.same("first format cut: revision", y.byteAt(0, 0), 0);
-            due.same("first format cut: other block", y.wear(1), 0);
-        }
+    // 4: on
+
+    @Says(at = "Promise 4", text = "The power is on, whether it was off or not")
+    static void p04OnWhetherItWasOffOrNot() {
+        Asked x = fresh();
+        x.on();
+        x.off().is(0);
+        x.cut(0);
+        x.format().is(-9);
+        x.on();
+        x.off().is(0);
+        x.on();
+        x.off().is(0);
+        x.units().is(0);
+        x.format().is(0);
     }
 
-    private static void formatOverOldTree() {
-        FlashTree x = mounted();
-        due.same("make", x.make(0, 5), 1);
-        due.same("write", x.write(1, 6, 1, 7), 0);
-        due.same("format", x.format(), 0);
-        due.same("format unmounts", x.entry(0, 0), -8);
-        due.same("mount", x.mount(), 0);
-        names("formatted", x, 0);
-        due.same("old folder is not there", x.entry(1, 0), -1);
-        due.same("all but the root are free", x.free(), 7);
-        for (int k = 0; k < 4; k++) {
-            FlashTree y = mounted();
-            due.same("write", y.write(0, 9, 1, 8), 0);
-            y.cut(k);
-            due.same("format cut", y.format(), -9);
-            y.on();
-            due.same("mount", y.mount(), 0);
-            names("a format that was cut leaves the old tree", y, 0, 9);
-        }
+    @Says(at = "Promise 4", text = "nothing is mounted")
+    static void p04OnUnmounts() {
+        Asked x = mounted();
+        x.on();
+        allRefused(x, -8);
+        x.mount().is(0);
+        x.cut(0);
+        x.make(0, 1).is(-9);
+        x.on();
+        allRefused(x, -8);
+        x.mount().is(0);
+        x.free().is(7);
     }
 
-    private static void revisionGoesRound() {
-        FlashTree x = new FlashTree();
-        for (int i = 0; i < 256; i++) {
-            due.same("format", x.format(), 0);
-            if (i % 9 == 0 || i >= 126 && i <= 130) {
-                due.same("revision", x.byteAt(i % 2, 0), i);
+    @Says(at = "Promise 4", text = "The power is on, whether it was off or not")
+    static void p04OnLeavesACutSet() {
+        Asked x = mounted();
+        x.cut(7);
+        x.write(0, 1, 0, 0).is(0);
+        x.mountAgain();
+        x.write(0, 1, 0, 0).is(-9);
+        x.units().is(4 + 7);
+    }
+
+    // 5: format
+
+    @Says(at = "Promise 5", text = "Unmounts, and begins pair 0.")
+    static void p05FormatUnmountsAndBeginsPair0() {
+        Asked x = fourEntries();
+        x.write(1, 9, 0, 0).is(0);
+        x.format().is(0);
+        allRefused(x, -8);
+        x.bytes(1, 0, 1, 0, 0, 255);
+        // The other pairs are not touched.
+        x.bytes(2, 0, 0, 0, 0, 3, 1, 9, 0, 0, 255);
+        x.wear(2).is(1);
+        x.wear(3).is(0);
+        x.mount().is(0);
+        x.names(0);
+        x.entry(1, 0).is(-1);
+        x.free().is(7);
+    }
+
+    @Says(at = "Promise 5", text = "0; -9.")
+    static void p05FormatCutOff() {
+        for (int k = 0; k <= 4; k++) {
+            Asked x = fourEntries();
+            x.cut(k);
+            x.format().is(k < 4 ? -9 : 0);
+            x.off().is(k < 4 ? 1 : 0);
+            x.format().is(-9);
+            x.on();
+            x.free().is(-8);
+            x.mount().is(0);
+            if (k < 4) {
+                x.names(0, 1, 2, 3, 4);
+            } else {
+                x.names(0);
             }
         }
-        due.same("revision 255", x.byteAt(1, 0), 255);
-        due.same("a byte 255 is programmed too", x.units(), 1024);
-        due.same("mount", x.mount(), 0);
-        due.same("write behind revision 255", x.write(0, 3, 0, 0), 0);
-        bytes("behind revision 255", x, 1, 3, 3, 1, 3, 0, 0);
-        due.same("format", x.format(), 0);
-        due.same("revision 0 behind 255", x.byteAt(0, 0), 0);
-        due.same("mount", x.mount(), 0);
-        names("revision 0 is newer than 255", x, 0);
-        due.same("write behind revision 0", x.write(0, 4, 0, 0), 0);
-        bytes("behind revision 0", x, 0, 3, 3, 1, 4, 0, 0);
     }
 
-    private static void mount() {
-        FlashTree x = new FlashTree();
-        due.same("mount of nothing", x.mount(), -7);
-        due.same("format", x.format(), 0);
-        due.same("mount", x.mount(), 0);
-        due.same("make", x.make(0, 1), 1);
-        due.same("make", x.make(1, 2), 2);
-        due.same("write", x.write(2, 3, 2, 0x0201), 0);
-        int units = x.units();
-        due.same("mount again", x.mount(), 0);
-        x.on();
-        due.same("mount after on", x.mount(), 0);
-        due.same("mount without mark uses no units", x.units(), units);
-        due.same("tree is known", x.child(0, 1), 1);
-        due.same("tree is known", x.child(1, 2), 2);
-        due.same("tree is known", x.data(2, 3), 0x0201);
-        due.same("tree is known", x.free(), 5);
+    // 6: mount
+
+    @Says(at = "Promise 6", text = "Unmounts. -7; else all folders that are there are known from their logs.")
+    static void p06MountKnowsAllFolders() {
+        Asked x = eightFolders();
+        x.write(7, 5, 2, 0x0201).is(0);
+        int units = x.units().value();
+        x.mount().is(0);
+        x.mountAgain();
+        for (int q = 0; q < 7; q++) {
+            x.names(q, 1);
+            x.folder(q, 1, q + 1);
+        }
+        x.names(7, 5);
+        x.file(7, 5, 2, 0x0201);
+        x.free().is(0);
+        x.units().is(units);
     }
 
-    /** A tree in which the move of entry 9 of folder 1 to entry 8 of folder 2 was cut after k units. */
-    private static FlashTree cutMove(int k) {
-        FlashTree x = mounted();
-        due.same("make", x.make(0, 1), 1);
-        due.same("make", x.make(0, 2), 2);
-        due.same("write", x.write(1, 9, 1, 77), 0);
-        x.cut(k);
-        due.same("rename cut", x.rename(1, 9, 2, 8), -9);
-        x.on();
-        return x;
+    @Says(at = "Promise 6", text = "Unmounts. -7; else all folders that are there are known from their logs.")
+    static void p06MountWithoutARootAnswersMinus7() {
+        Asked x = fresh();
+        x.mount().is(-7);
+        x.free().is(-8);
+        x.units().is(0);
+        x.cut(0);
+        x.mount().is(-7);
+        x.off().is(0);
+        x.format().is(-9);
+        x.mount().is(-9);
     }
 
-    private static void mountFinishesMove() {
+    @Says(at = "Promise 6", text = "if folder q is there and has an entry of that name, 3, name is committed to it")
+    static void p06MountTakesTheMarkedEntryOut() {
         // 9 units put the entry and the mark, 4 take the old entry out, 3 take the mark away.
-        for (int k = 0; k < 16; k++) {
-            FlashTree x = cutMove(k);
-            int before = x.units();
-            due.same("mount", x.mount(), 0);
-            boolean moved = k >= 9;
-            due.same("old name after " + k, x.kind(1, 9), moved ? 0 : 1);
-            due.same("new name after " + k, x.kind(2, 8), moved ? 1 : 0);
-            // Folder 1 is empty then, so that its log written anew takes 4 units as the record does.
-            int removal = k < 9 || k >= 13 ? 0 : 4;
-            // Behind a torn record the log is written anew, with the moved file in it.
-            int unmark = k < 9 ? 0 : k <= 13 ? 3 : 8;
-            due.same("units of mount after " + k, x.units() - before, removal + unmark);
-            due.same("a second mount", x.mount(), 0);
-            due.same("has no mark to clear after " + k, x.units() - before, removal + unmark);
+        for (int k = 9; k < 13; k++) {
+            Asked x = cutMove(k);
+            int units = x.units().value();
+            x.mount().is(0);
+            x.names(0, 1, 2);
+            x.names(1);
+            x.names(2, 8);
+            x.file(2, 8, 1, 77);
+            x.bytes(4, 12, 1, 5, 0, 255);
+            if (k == 9) {
+                x.bytes(2, 9, 2, 3, 9, 0, 255);
+            } else {
+                x.bytes(3, 0, 1, 0, 0, 255);
+            }
+            x.units().is(units + 4 + 3);
         }
-        for (int m = 0; m < 7; m++) {
-            FlashTree x = cutMove(9);
-            x.cut(m);
-            due.same("mount cut", x.mount(), -9);
-            due.holds("mount cut: off", x.off());
-            x.on();
-            due.same("nothing is mounted", x.entry(0, 0), -8);
-            due.same("mount", x.mount(), 0);
-            due.same("mount cut, old name", x.kind(1, 9), 0);
-            due.same("mount cut, new name", x.data(2, 8), 77);
-        }
-        FlashTree x = cutMove(9);
-        due.same("format forgets the mark", x.format(), 0);
-        int before = x.units();
-        due.same("mount", x.mount(), 0);
-        due.same("units", x.units(), before);
-        due.same("make", x.make(0, 1), 1);
-        due.same("make", x.make(0, 2), 2);
-        before = x.units();
-        due.same("mount", x.mount(), 0);
-        due.same("a begun pair has no mark", x.units(), before);
     }
 
-    private static void make() {
-        FlashTree x = mounted();
-        due.same("make", x.make(0, 99), 1);
-        due.same("make: units", x.units(), 4 + 4 + 5);
-        bytes("make: new log", x, 2, 0, 0, 0, 0, 255);
-        bytes("make: parent", x, 0, 3, 3, 2, 99, 1, 0, 255);
-        due.same("make", x.make(1, 1), 2);
-        bytes("make: parent", x, 2, 3, 3, 2, 1, 2, 0, 255);
-        due.same("make, same name elsewhere", x.make(2, 99), 3);
-        due.same("kind", x.kind(2, 99), 2);
-        due.same("child", x.child(2, 99), 3);
-        names("new folder", x, 3);
+    @Says(at = "Promise 6", text = "if folder q is there and has an entry of that name, 3, name is committed to it")
+    static void p06MountFindsTheMarkedEntryGone() {
+        for (int k = 13; k < 16; k++) {
+            Asked x = cutMove(k);
+            int units = x.units().value();
+            x.mount().is(0);
+            x.names(1);
+            x.names(2, 8);
+            x.bytes(2, 9, 2, 3, 9, 0, 255);
+            x.wear(3).is(0);
+            x.units().is(units + (k == 13 ? 3 : 1 + 1 + 6));
+        }
+    }
+
+    @Says(at = "Promise 6", text = "then 5 is committed to the folder with the mark")
+    static void p06MountTakesTheMarkAway() {
+        for (int k = 9; k < 16; k++) {
+            Asked x = cutMove(k);
+            x.mount().is(0);
+            int units = x.units().value();
+            // Another entry of the old name stays: the mark is no more.
+            x.write(1, 9, 0, 0).is(0);
+            units += 5;
+            x.mountAgain();
+            x.units().is(units);
+            x.names(1, 9);
+            x.names(2, 8);
+        }
+    }
+
+    @Says(at = "Promise 6", text = "Then, if one of them has a mark (4, q, name)")
+    static void p06MountBeforeTheMarkCountsShowsTheOldTree() {
         for (int k = 0; k < 9; k++) {
-            FlashTree y = mounted();
+            Asked x = cutMove(k);
+            int units = x.units().value();
+            x.mount().is(0);
+            x.units().is(units);
+            x.names(1, 9);
+            x.names(2);
+            x.rename(1, 9, 2, 8).is(0);
+            x.names(1);
+            x.names(2, 8);
+        }
+    }
+
+    @Says(at = "Promise 6", text = "Then, if one of them has a mark (4, q, name)")
+    static void p06MountFindsAMarkInTheRootAndInTheLastPair() {
+        Asked root = mounted();
+        root.make(0, 1).is(1);
+        root.make(1, 2).is(2);
+        root.cut(9);
+        root.rename(1, 2, 0, 99).is(-9);
+        root.on();
+        root.mount().is(0);
+        root.names(0, 1, 99);
+        root.folder(0, 99, 2);
+        root.names(1);
+        root.free().is(5);
+        Asked last = eightFolders();
+        last.write(0, 2, 1, 22).is(0);
+        last.cut(9);
+        last.rename(0, 2, 7, 3).is(-9);
+        last.on();
+        last.mount().is(0);
+        last.names(0, 1);
+        last.names(7, 3);
+        last.file(7, 3, 1, 22);
+    }
+
+    @Says(at = "Promise 6", text = "Then, if one of them has a mark (4, q, name)")
+    static void p06MountFindsNoMarkInAFolderThatIsNotThere() {
+        Asked x = cutMove(9);
+        x.format().is(0);
+        int units = x.units().value();
+        x.mount().is(0);
+        x.units().is(units);
+        x.free().is(7);
+    }
+
+    @Says(at = "Promise 6", text = "if folder q is there and has an entry of that name, 3, name is committed to it; then 5 is committed to the folder with the mark.")
+    static void p06MountCommitsToFullLogs() {
+        Asked x = twoFolders();
+        fill(x, 1, 9, 3, 64);
+        // The record with the file of one byte and the mark takes 9 bytes.
+        fill(x, 2, 7, 3, 55);
+        x.cut(9);
+        x.rename(1, 9, 2, 8).is(-9);
+        x.bytes(4, 55, 7, 1, 8, 1, 1, 4, 1, 9, 0);
+        x.on();
+        x.mount().is(0);
+        x.bytes(3, 0, 1, 0, 0, 255);
+        x.names(1);
+        x.names(2, 7, 8);
+        x.byteAt(5, 0).is(1);
+        x.file(2, 8, 1, 1);
+        int units = x.units().value();
+        x.mountAgain();
+        x.units().is(units);
+    }
+
+    @Says(at = "Promise 6", text = "Then it is mounted: 0; -9.")
+    static void p06MountCutOff() {
+        for (int k = 0; k <= 7; k++) {
+            Asked x = cutMove(9);
+            int units = x.units().value();
+            x.cut(k);
+            x.mount().is(k < 7 ? -9 : 0);
+            x.off().is(k < 7 ? 1 : 0);
+            x.units().is(units + k);
+            x.free().is(k < 7 ? -9 : 5);
+            x.on();
+            x.free().is(-8);
+            x.cut(-1);
+            x.mount().is(0);
+            x.names(1);
+            x.names(2, 8);
+            x.file(2, 8, 1, 77);
+            units = x.units().value();
+            x.mountAgain();
+            x.units().is(units);
+        }
+    }
+
+    @Says(at = "Promise 6", text = "(Never more than one folder has a mark.)")
+    static void p06NoMarkIsLeftByAMoveThatIsRefusedOrDone() {
+        Asked x = twoFolders();
+        x.write(1, 9, 0, 0).is(0);
+        x.make(2, 9).is(3);
+        x.rename(1, 9, 2, 9).is(-2);
+        x.rename(1, 9, 2, 8).is(0);
+        x.rename(2, 8, 0, 8).is(0);
+        x.rename(0, 8, 3, 8).is(0);
+        int units = x.units().value();
+        x.mountAgain();
+        x.units().is(units);
+        x.names(3, 8);
+    }
+
+    // 7: make
+
+    @Says(at = "Promise 7", text = "the lowest free pair is begun, and 2, name, pair committed to d")
+    static void p07MakeBeginsThePairAndCommitsTheEntry() {
+        Asked x = mounted();
+        x.make(0, 99).is(1);
+        x.units().is(4 + 4 + 5);
+        x.bytes(2, 0, 0, 0, 0, 255);
+        x.bytes(0, 3, 3, 2, 99, 1, 0, 255);
+        x.make(1, 1).is(2);
+        x.bytes(2, 3, 3, 2, 1, 2, 0, 255);
+        x.bytes(4, 0, 0, 0, 0, 255);
+        x.folder(0, 99, 1);
+        x.folder(1, 1, 2);
+        x.names(2);
+    }
+
+    @Says(at = "Promise 7", text = "the lowest free pair is begun, and 2, name, pair committed to d")
+    static void p07MakeTakesTheLowestFreePair() {
+        Asked x = mounted();
+        for (int q = 1; q <= 4; q++) {
+            x.make(0, q).is(q);
+        }
+        x.make(4, 1).is(5);
+        x.remove(0, 3).is(0);
+        x.remove(0, 2).is(0);
+        x.make(5, 1).is(2);
+        x.bytes(5, 0, 1, 0, 0, 255);
+        x.make(5, 2).is(3);
+        x.make(5, 3).is(6);
+        x.remove(0, 1).is(0);
+        x.mountAgain();
+        x.make(5, 4).is(1);
+        x.make(1, 4).is(7);
+        x.free().is(0);
+    }
+
+    @Says(at = "Promise 7", text = "Makes an empty folder in folder d")
+    static void p07MakeOfAnEmptyFolderInAPairThatHeldAnother() {
+        Asked x = fourEntries();
+        x.write(1, 5, 1, 55).is(0);
+        x.make(1, 6).is(2);
+        x.format().is(0);
+        x.mount().is(0);
+        x.make(0, 9).is(1);
+        x.names(1);
+        x.free().is(6);
+        x.entry(2, 0).is(-1);
+        x.mountAgain();
+        x.names(1);
+        x.make(1, 9).is(2);
+        x.names(2);
+        // Emptied and made again without a mount between.
+        x.remove(1, 9).is(0);
+        x.make(1, 8).is(2);
+        x.write(2, 1, 0, 0).is(0);
+        x.rename(1, 8, 0, 8).is(0);
+        x.remove(2, 1).is(0);
+        x.remove(0, 8).is(0);
+        x.make(0, 8).is(2);
+        x.names(2);
+        x.write(2, 3, 0, 0).is(0);
+        x.names(2, 3);
+    }
+
+    @Says(at = "Promise 7", text = "The pair.")
+    static void p07MakeAnswersThePair() {
+        Asked x = mounted();
+        for (int q = 1; q < 8; q++) {
+            x.make(q - 1, 99).is(q);
+            x.child(q - 1, 99).is(q);
+        }
+    }
+
+    @Says(at = "Promise 7", text = "-1 d is no folder that is there, or name not 1 .. 99")
+    static void p07MakeWithWrongNumbers() {
+        Asked x = twoFolders();
+        for (int d : NO_FOLDERS) {
+            x.make(d, 5).is(-1);
+        }
+        for (int name : NO_NAMES) {
+            x.make(0, name).is(-1);
+        }
+        x.make(0, 99).is(3);
+        x.make(3, 1).is(4);
+    }
+
+    @Says(at = "Promise 7", text = "-2; -3; -4.")
+    static void p07MakeOfATakenName() {
+        Asked x = fourEntries();
+        x.make(0, 1).is(-2);
+        x.make(0, 2).is(-2);
+        x.make(0, 3).is(-2);
+        x.make(0, 4).is(-2);
+        // The same name elsewhere is another.
+        x.make(1, 2).is(2);
+        x.make(2, 1).is(3);
+    }
+
+    @Says(at = "Promise 7", text = "-2; -3; -4.")
+    static void p07MakeInAFullFolder() {
+        Asked x = mounted();
+        for (int name = 1; name <= 4; name++) {
+            x.make(0, name).is(name);
+        }
+        x.make(0, 5).is(-3);
+        x.names(0, 1, 2, 3, 4);
+        x.free().is(3);
+    }
+
+    @Says(at = "Promise 7", text = "-2; -3; -4.")
+    static void p07MakeWithoutAFreePair() {
+        Asked x = eightFolders();
+        x.make(7, 1).is(-4);
+        x.make(0, 2).is(-4);
+        x.remove(6, 1).is(0);
+        x.make(0, 2).is(7);
+        x.make(0, 3).is(-4);
+    }
+
+    @Says(at = "Promise 7", text = "-2; -3; -4.")
+    static void p07MakeRefusedInThisOrder() {
+        Asked x = eightFolders();
+        x.write(0, 2, 0, 0).is(0);
+        x.write(0, 3, 0, 0).is(0);
+        x.make(0, 1).is(-2);
+        x.make(0, 4).is(-4);
+        x.write(0, 4, 0, 0).is(0);
+        x.make(0, 4).is(-2);
+        x.make(0, 5).is(-3);
+        x.make(0, 0).is(-1);
+    }
+
+    // 8: write
+
+    @Says(at = "Promise 8", text = "Makes a file in folder d, or puts other bytes into it")
+    static void p08WriteMakesAFileOrPutsOtherBytesIntoIt() {
+        Asked x = twoFolders();
+        x.write(2, 99, 3, 0x030201).is(0);
+        x.file(2, 99, 3, 0x030201);
+        x.names(2, 99);
+        x.write(2, 1, 1, 1).is(0);
+        x.write(2, 99, 1, 7).is(0);
+        x.names(2, 99, 1);
+        x.file(2, 99, 1, 7);
+        x.write(2, 99, 6, 8).is(0);
+        x.file(2, 99, 6, 8);
+        x.write(2, 99, 0, 8).is(0);
+        x.file(2, 99, 0, 0);
+        x.mountAgain();
+        x.file(2, 99, 0, 0);
+        x.file(2, 1, 1, 1);
+        // The same bytes once more are committed once more.
+        int units = x.units().value();
+        x.write(2, 1, 1, 1).is(0);
+        x.units().is(units + 6);
+    }
+
+    @Says(at = "Promise 8", text = "commits 1, name, n and the n lowest bytes of v, the lowest first")
+    static void p08WriteTakesTheLowestBytesTheLowestFirst() {
+        int[] bytes = {0x88, 0x77, 0x66, 0x55, 0x44, 0x33};
+        for (int n = 0; n <= 6; n++) {
+            Asked x = mounted();
+            x.write(0, 7, n, 0x1122334455667788L).is(0);
+            x.bytes(0, 3, 3 + n, 1, 7, n);
+            for (int i = 0; i < n; i++) {
+                x.byteAt(0, 7 + i).is(bytes[i]);
+            }
+            x.bytes(0, 7 + n, 0, 255);
+            x.units().is(4 + 5 + n);
+            long due = 0x1122334455667788L & ((1L << (8 * n)) - 1);
+            x.file(0, 7, n, due);
+            x.mountAgain();
+            x.file(0, 7, n, due);
+        }
+    }
+
+    @Says(at = "Promise 8", text = "commits 1, name, n and the n lowest bytes of v, the lowest first")
+    static void p08WriteOfTheLowestAndTheHighestV() {
+        Asked x = mounted();
+        x.write(0, 1, 6, -1).is(0);
+        x.file(0, 1, 6, 0xFFFFFFFFFFFFL);
+        x.write(0, 1, 6, Long.MIN_VALUE).is(0);
+        x.file(0, 1, 6, 0);
+        x.write(0, 1, 6, Long.MAX_VALUE).is(0);
+        x.file(0, 1, 6, 0xFFFFFFFFFFFFL);
+        x.write(0, 1, 1, 511).is(0);
+        x.file(0, 1, 1, 255);
+        x.write(0, 1, 4, 0xFFFFFFFFL).is(0);
+        x.file(0, 1, 4, 0xFFFFFFFFL);
+        x.mountAgain();
+        x.file(0, 1, 4, 0xFFFFFFFFL);
+        x.write(0, 1, 6, 0x800080008000L).is(0);
+        x.mountAgain();
+        x.file(0, 1, 6, 0x800080008000L);
+    }
+
+    @Says(at = "Promise 8", text = "-1 d, name as make, or n not 0 .. 6")
+    static void p08WriteWithWrongNumbers() {
+        Asked x = twoFolders();
+        for (int d : NO_FOLDERS) {
+            x.write(d, 5, 0, 0).is(-1);
+        }
+        for (int name : NO_NAMES) {
+            x.write(0, name, 0, 0).is(-1);
+        }
+        for (int n : new int[] {-1, 7, 8, 256, Integer.MIN_VALUE, Integer.MAX_VALUE}) {
+            x.write(0, 5, n, 0).is(-1);
+            x.write(0, 1, n, 0).is(-1);
+        }
+        x.names(0, 1, 2);
+        x.write(0, 1, 0, 0).is(-2);
+        x.write(0, 99, 6, 0).is(0);
+        x.write(1, 1, 0, 0).is(0);
+    }
+
+    @Says(at = "Promise 8", text = "-2 a folder has that name")
+    static void p08WriteOfAFoldersName() {
+        Asked x = fourEntries();
+        x.write(0, 2, 0, 0).is(-2);
+        x.write(0, 2, 6, 1).is(-2);
+        x.folder(0, 2, 1);
+        // A folder elsewhere may have it.
+        x.write(1, 2, 0, 0).is(0);
+    }
+
+    @Says(at = "Promise 8", text = "-3 there is no such name and d has 4 entries")
+    static void p08WriteInAFullFolder() {
+        Asked x = fourEntries();
+        x.write(0, 5, 0, 0).is(-3);
+        x.write(0, 99, 6, 0).is(-3);
+        x.write(0, 4, 1, 5).is(0);
+        x.write(0, 1, 1, 6).is(0);
+        x.names(0, 1, 2, 3, 4);
+        x.file(0, 4, 1, 5);
+        x.file(0, 1, 1, 6);
+        x.remove(0, 3).is(0);
+        x.write(0, 5, 0, 0).is(0);
+        x.names(0, 1, 2, 4, 5);
+    }
+
+    // 9: remove
+
+    @Says(at = "Promise 9", text = "Takes the entry out of folder d: commits 3, name.")
+    static void p09RemoveTakesTheEntryOut() {
+        Asked x = fourEntries();
+        int units = x.units().value();
+        x.remove(0, 1).is(0);
+        x.bytes(0, 30, 2, 3, 1, 0, 255);
+        x.units().is(units + 4);
+        x.names(0, 2, 3, 4);
+        x.remove(0, 4).is(0);
+        x.remove(0, 2).is(0);
+        x.remove(0, 3).is(0);
+        x.names(0);
+        x.free().is(7);
+        x.entry(1, 0).is(-1);
+        x.mountAgain();
+        x.names(0);
+        x.free().is(7);
+    }
+
+    @Says(at = "Promise 9", text = "-1 d is no folder that is there, or it has no such name")
+    static void p09RemoveOfNoEntry() {
+        Asked x = twoFolders();
+        x.write(1, 5, 0, 0).is(0);
+        for (int d : NO_FOLDERS) {
+            x.remove(d, 1).is(-1);
+        }
+        for (int name : NO_NAMES) {
+            x.remove(0, name).is(-1);
+            x.remove(2, name).is(-1);
+        }
+        x.remove(0, 5).is(-1);
+        x.remove(2, 5).is(-1);
+        x.remove(1, 5).is(0);
+        x.remove(1, 5).is(-1);
+        x.remove(0, 1).is(0);
+        x.remove(1, 5).is(-1);
+        x.remove(0, 1).is(-1);
+    }
+
+    @Says(at = "Promise 9", text = "-5 it is a folder with entries")
+    static void p09RemoveOfAFolderWithEntries() {
+        Asked x = twoFolders();
+        x.write(1, 5, 0, 0).is(0);
+        x.make(2, 5).is(3);
+        x.remove(0, 1).is(-5);
+        x.remove(0, 2).is(-5);
+        x.names(0, 1, 2);
+        x.remove(1, 5).is(0);
+        x.remove(0, 1).is(0);
+        x.remove(2, 5).is(0);
+        x.remove(0, 2).is(0);
+        x.free().is(7);
+        // A new folder in the old pair is empty, whatever the old one held.
+        x.make(0, 7).is(1);
+        x.write(1, 1, 0, 0).is(0);
+        x.rename(1, 1, 0, 1).is(0);
+        x.remove(0, 7).is(0);
+        // A file is no folder, however many bytes it has.
+        x.write(0, 1, 6, -1).is(0);
+        x.remove(0, 1).is(0);
+    }
+
+    // 10: rename
+
+    @Says(at = "Promise 10", text = "Moves the entry of folder d to folder e, or gives it another name. 0.")
+    static void p10RenameMovesAFileAndAFolder() {
+        Asked x = twoFolders();
+        x.write(1, 9, 6, 0x060504030201L).is(0);
+        x.rename(1, 9, 2, 9).is(0);
+        x.names(1);
+        x.names(2, 9);
+        x.file(2, 9, 6, 0x060504030201L);
+        x.rename(0, 2, 1, 7).is(0);
+        x.names(0, 1);
+        x.folder(1, 7, 2);
+        x.file(2, 9, 6, 0x060504030201L);
+        x.rename(1, 7, 1, 8).is(0);
+        x.folder(1, 8, 2);
+        x.kind(1, 7).is(0);
+        x.rename(1, 8, 0, 1).is(-2);
+        x.rename(1, 8, 0, 2).is(0);
+        x.folder(0, 2, 2);
+        x.mountAgain();
+        x.names(0, 1, 2);
+        x.names(1);
+        x.file(2, 9, 6, 0x060504030201L);
+        x.free().is(5);
+    }
+
+    @Says(at = "Promise 10", text = "-1 d or e is no folder that is there, d has no such name, or to is not 1 .. 99.")
+    static void p10RenameWithWrongNumbers() {
+        Asked x = twoFolders();
+        x.write(0, 3, 0, 0).is(0);
+        for (int d : NO_FOLDERS) {
+            x.rename(d, 3, 0, 9).is(-1);
+            x.rename(0, 3, d, 9).is(-1);
+            x.rename(d, 3, d, 3).is(-1);
+        }
+        for (int name : NO_NAMES) {
+            x.rename(0, name, 1, 9).is(-1);
+            x.rename(0, 3, 1, name).is(-1);
+            x.rename(0, 3, 0, name).is(-1);
+            x.rename(0, name, 0, name).is(-1);
+        }
+        x.rename(0, 9, 1, 8).is(-1);
+        x.rename(0, 9, 0, 3).is(-1);
+        x.rename(1, 3, 0, 9).is(-1);
+        x.names(0, 1, 2, 3);
+        x.names(1);
+    }
+
+    @Says(at = "Promise 10", text = "Is d = e and name = to: nothing is done.")
+    static void p10RenameToTheSameNameDoesNothing() {
+        Asked x = fourEntries();
+        int units = x.units().value();
+        x.cut(0);
+        for (int name = 1; name <= 4; name++) {
+            x.rename(0, name, 0, name).is(0);
+        }
+        x.rename(0, 5, 0, 5).is(-1);
+        x.units().is(units);
+        x.off().is(0);
+        x.names(0, 1, 2, 3, 4);
+        x.cut(-1);
+        // The same name in another folder is a move.
+        x.rename(0, 1, 1, 1).is(0);
+        x.names(0, 2, 3, 4);
+        x.names(1, 1);
+    }
+
+    @Says(at = "Promise 10", text = "-2 e has the name to, and one of the two entries is a folder (a file takes the place of a file)")
+    static void p10RenameToATakenName() {
+        Asked x = twoFolders();
+        x.write(0, 3, 1, 33).is(0);
+        x.write(0, 4, 2, 44).is(0);
+        x.make(1, 5).is(3);
+        x.write(1, 6, 1, 66).is(0);
+        x.rename(0, 3, 1, 5).is(-2);
+        x.rename(0, 2, 1, 6).is(-2);
+        x.rename(0, 2, 1, 5).is(-2);
+        x.rename(0, 3, 0, 1).is(-2);
+        x.rename(0, 1, 0, 3).is(-2);
+        x.rename(0, 1, 0, 2).is(-2);
+        x.names(0, 1, 2, 3, 4);
+        x.names(1, 5, 6);
+    }
+
+    @Says(at = "Promise 10", text = "(a file takes the place of a file)")
+    static void p10RenameOfAFileToAFilesName() {
+        Asked x = twoFolders();
+        x.write(0, 3, 1, 33).is(0);
+        x.write(0, 4, 2, 44).is(0);
+        x.write(1, 6, 0, 0).is(0);
+        x.write(1, 7, 0, 0).is(0);
+        x.rename(0, 3, 1, 6).is(0);
+        x.names(1, 6, 7);
+        x.file(1, 6, 1, 33);
+        x.names(0, 1, 2, 4);
+        x.write(0, 5, 0, 0).is(0);
+        x.rename(0, 5, 0, 4).is(0);
+        x.names(0, 1, 2, 4);
+        x.file(0, 4, 0, 0);
+        x.mountAgain();
+        x.names(0, 1, 2, 4);
+        x.names(1, 6, 7);
+        x.file(1, 6, 1, 33);
+        // Within one folder the place is that of the name to, after the others have closed up.
+        x.rename(1, 6, 1, 7).is(0);
+        x.names(1, 7);
+        x.file(1, 7, 1, 33);
+    }
+
+    @Says(at = "Promise 10", text = "-3 e has no such name, d is not e, and e has 4 entries")
+    static void p10RenameIntoAFullFolder() {
+        Asked x = fourEntries();
+        x.write(1, 9, 1, 99).is(0);
+        x.make(1, 8).is(2);
+        x.rename(1, 9, 0, 9).is(-3);
+        x.rename(1, 8, 0, 8).is(-3);
+        // It has such a name.
+        x.rename(1, 9, 0, 3).is(0);
+        x.names(0, 1, 2, 3, 4);
+        x.file(0, 3, 1, 99);
+        x.names(1, 8);
+        // It is the same folder.
+        x.rename(0, 1, 0, 7).is(0);
+        x.names(0, 2, 3, 4, 7);
+        x.rename(0, 2, 0, 1).is(0);
+        x.names(0, 3, 4, 7, 1);
+        // It has three entries.
+        x.remove(0, 4).is(0);
+        x.rename(1, 8, 0, 8).is(0);
+        x.names(0, 3, 7, 1, 8);
+    }
+
+    @Says(at = "Promise 10", text = "-6 the entry is a folder, and e is it or is reached from it")
+    static void p10RenameOfAFolderIntoItself() {
+        Asked x = eightFolders();
+        for (int e = 1; e < 8; e++) {
+            x.rename(0, 1, e, 9).is(-6);
+        }
+        for (int e = 4; e < 8; e++) {
+            x.rename(3, 1, e, 9).is(-6);
+        }
+        x.rename(6, 1, 7, 9).is(-6);
+        x.rename(6, 1, 0, 9).is(0);
+        x.rename(0, 1, 7, 9).is(0);
+        x.child(7, 9).is(1);
+        x.rename(0, 9, 6, 9).is(-6);
+        x.names(0, 9);
+        x.free().is(0);
+        // Beside it, above it, and with another name in its own place.
+        x.rename(5, 1, 7, 1).is(0);
+        x.rename(7, 9, 7, 2).is(0);
+        x.rename(7, 2, 6, 3).is(0);
+        x.mountAgain();
+        x.names(7, 1);
+        x.names(6, 3);
+        x.free().is(0);
+    }
+
+    @Says(at = "Promise 10", text = "-6 the entry is a folder, and e is it or is reached from it")
+    static void p10RenameOfAFileIntoAFolderBelow() {
+        Asked x = eightFolders();
+        x.write(0, 5, 1, 55).is(0);
+        x.rename(0, 5, 7, 5).is(0);
+        x.file(7, 5, 1, 55);
+        x.names(0, 1);
+        x.rename(7, 5, 0, 5).is(0);
+        x.file(0, 5, 1, 55);
+    }
+
+    @Says(at = "Promise 10", text = "-6 the entry is a folder, and e is it or is reached from it")
+    static void p10RenameRefusedInThisOrder() {
+        Asked x = twoFolders();
+        x.write(1, 5, 0, 0).is(0);
+        x.rename(0, 1, 1, 5).is(-2);
+        x.rename(0, 1, 1, 6).is(-6);
+        x.write(1, 6, 0, 0).is(0);
+        x.make(1, 7).is(3);
+        x.write(1, 8, 0, 0).is(0);
+        x.rename(0, 1, 1, 7).is(-2);
+        x.rename(0, 1, 1, 9).is(-3);
+        x.rename(0, 2, 1, 5).is(-2);
+        x.rename(0, 2, 1, 9).is(-3);
+        x.rename(0, 1, 1, 100).is(-1);
+        x.rename(0, 1, 3, 1).is(-6);
+    }
+
+    @Says(at = "Promise 10", text = "d = e: one commit of 3, name, and the entry as 1 or 2 with the name to.")
+    static void p10RenameWithinAFolderIsOneCommit() {
+        Asked x = twoFolders();
+        x.write(0, 3, 2, 0x0403).is(0);
+        int units = x.units().value();
+        x.rename(0, 3, 0, 99).is(0);
+        x.bytes(0, 20, 7, 3, 3, 1, 99, 2, 3, 4, 0, 255);
+        x.units().is(units + 9);
+        x.rename(0, 1, 0, 5).is(0);
+        x.bytes(0, 29, 5, 3, 1, 2, 5, 1, 0, 255);
+        x.units().is(units + 9 + 7);
+        x.names(0, 2, 99, 5);
+        x.mountAgain();
+        x.names(0, 2, 99, 5);
+        // Cut off before the seal, it leaves the old name; with the seal the new one.
+        for (int k = 0; k <= 7; k++) {
+            Asked y = twoFolders();
             y.cut(k);
-            due.same("make cut", y.make(0, 1), -9);
-            y.on();
-            due.same("mount", y.mount(), 0);
-            names("make cut", y, 0);
-            due.same("make cut: free", y.free(), 7);
-            due.same("make", y.make(0, 1), 1);
-            bytes("make after cut", y, k < 4 ? 2 : 3, 0, k < 4 ? 0 : 1, 0, 0, 255);
+            y.rename(0, 1, 0, 5).is(k < 7 ? -9 : 0);
+            y.mountAgain();
+            if (k < 7) {
+                y.names(0, 1, 2);
+            } else {
+                y.names(0, 2, 5);
+            }
         }
     }
 
-    private static void makeRefused() {
-        FlashTree x = mounted();
-        int units = x.units();
-        due.same("no folder 1", x.make(1, 1), -1);
-        due.same("no folder 8", x.make(8, 1), -1);
-        due.same("no folder -1", x.make(-1, 1), -1);
-        due.same("no folder", x.make(Integer.MIN_VALUE, 1), -1);
-        due.same("no folder", x.make(Integer.MAX_VALUE, 1), -1);
-        due.same("name 0", x.make(0, 0), -1);
-        due.same("name 100", x.make(0, 100), -1);
-        due.same("name -1", x.make(0, -1), -1);
-        due.same("refused: units", x.units(), units);
-        due.same("make 1", x.make(0, 1), 1);
-        due.same("taken by a folder", x.make(0, 1), -2);
-        due.same("write 2", x.write(0, 2, 0, 0), 0);
-        due.same("taken by a file", x.make(0, 2), -2);
-        due.same("write 3", x.write(0, 3, 0, 0), 0);
-        due.same("write 4", x.write(0, 4, 0, 0), 0);
-        due.same("taken before full", x.make(0, 4), -2);
-        due.same("full", x.make(0, 5), -3);
-        int d = 1;
-        for (int q = 2; q < 8; q++) {
-            due.same("make in a row", x.make(d, 1), q);
-            d = q;
+    @Says(at = "Promise 10", text = "Else three commits: to e the entry as 1 or 2 with the name to, and 4, d, name; to d 3, name; to e 5.")
+    static void p10RenameToAnotherFolderIsThreeCommits() {
+        Asked x = twoFolders();
+        x.write(1, 9, 2, 0x0201).is(0);
+        int units = x.units().value();
+        x.rename(1, 9, 2, 8).is(0);
+        x.bytes(4, 3, 8, 1, 8, 2, 1, 2, 4, 1, 9, 0, 1, 5, 0, 255);
+        x.bytes(2, 10, 2, 3, 9, 0, 255);
+        x.units().is(units + 10 + 4 + 3);
+        x.rename(0, 2, 1, 2).is(0);
+        x.bytes(2, 14, 6, 2, 2, 2, 4, 0, 2, 0, 1, 5, 0, 255);
+        x.bytes(0, 13, 2, 3, 2, 0, 255);
+        x.units().is(units + 17 + 8 + 4 + 3);
+    }
+
+    @Says(at = "Promise 10", text = "Else three commits: to e the entry as 1 or 2 with the name to, and 4, d, name; to d 3, name; to e 5.")
+    static void p10RenameToAnotherFolderCutOffIsOneOrTheOther() {
+        for (int k = 0; k < 16; k++) {
+            Asked x = cutMove(k);
+            x.mount().is(0);
+            if (k < 9) {
+                x.names(1, 9);
+                x.names(2);
+            } else {
+                x.names(1);
+                x.names(2, 8);
+            }
         }
-        due.same("no pair", x.make(7, 1), -4);
-        due.same("full before no pair", x.make(0, 5), -3);
-        due.same("taken before no pair", x.make(0, 4), -2);
-        due.same("wrong before no pair", x.make(7, 0), -1);
-        due.same("free", x.free(), 0);
     }
 
-    private static void makeBeginsUsedPair() {
-        FlashTree x = mounted();
-        due.same("make", x.make(0, 1), 1);
-        due.same("make", x.make(0, 2), 2);
-        due.same("write", x.write(1, 5, 0, 0), 0);
-        due.same("remove", x.remove(1, 5), 0);
-        due.same("remove", x.remove(0, 1), 0);
-        due.same("free", x.free(), 6);
-        due.same("lowest free pair", x.make(2, 7), 1);
-        bytes("begun anew", x, 3, 0, 1, 0, 0, 255);
-        due.same("wear of the old block", x.wear(2), 1);
-        due.same("wear of the new block", x.wear(3), 1);
-        names("begun anew", x, 1);
-        due.same("remove", x.remove(2, 7), 0);
-        due.same("lowest free pair", x.make(0, 3), 1);
-        bytes("begun anew", x, 2, 0, 2, 0, 0, 255);
+    // 11 to 16: questions
+
+    @Says(at = "Promise 11", text = "The name of entry k of folder d (0 the first), 0 if there is none")
+    static void p11EntryOfEveryK() {
+        Asked x = fourEntries();
+        for (int k = 0; k < 4; k++) {
+            x.entry(0, k).is(k + 1);
+        }
+        for (int k : new int[] {-1, 4, 5, 64, Integer.MIN_VALUE, Integer.MAX_VALUE}) {
+            x.entry(0, k).is(0);
+            x.entry(1, k).is(0);
+        }
+        x.entry(1, 0).is(0);
+        x.remove(0, 4).is(0);
+        x.entry(0, 3).is(0);
+        x.entry(0, 2).is(3);
     }
 
-    private static void write() {
-        FlashTree x = mounted();
-        due.same("write", x.write(0, 7, 3, 0x0A0B0C0D0E0FL), 0);
-        bytes("write", x, 0, 3, 6, 1, 7, 3, 0x0F, 0x0E, 0x0D, 0, 255);
-        due.same("units", x.units(), 4 + 8);
-        due.same("data", x.data(0, 7), 0x0D0E0FL);
-        due.same("size", x.size(0, 7), 3);
-        due.same("write", x.write(0, 8, 6, -1L), 0);
-        due.same("six bytes", x.data(0, 8), 0xFFFFFFFFFFFFL);
-        bytes("bytes 255", x, 0, 11, 9, 1, 8, 6, 255, 255, 255, 255, 255, 255, 0);
-        due.same("write over", x.write(0, 7, 0, 5), 0);
-        due.same("no bytes", x.data(0, 7), 0);
-        due.same("no bytes", x.size(0, 7), 0);
-        bytes("no bytes", x, 0, 22, 3, 1, 7, 0, 0, 255);
-        names("the place stays", x, 0, 7, 8);
-        due.same("the same again is committed too", x.write(0, 7, 0, 5), 0);
-        due.same("units", x.units(), 4 + 8 + 11 + 5 + 5);
-        due.same("write", x.write(0, 9, 6, Long.MIN_VALUE | 0x800000000001L), 0);
-        due.same("data", x.data(0, 9), 0x800000000001L);
+    @Says(at = "Promise 11", text = "-9; -8; -1 d is no folder that is there.")
+    static void p11EntryRefused() {
+        Asked x = twoFolders();
+        for (int d : NO_FOLDERS) {
+            x.entry(d, 0).is(-1);
+            x.entry(d, -1).is(-1);
+        }
         x.on();
-        due.same("mount", x.mount(), 0);
-        names("mounted", x, 0, 7, 8, 9);
-        due.same("mounted: data", x.data(0, 7), 0);
-        due.same("mounted: data", x.data(0, 8), 0xFFFFFFFFFFFFL);
-        due.same("mounted: data", x.data(0, 9), 0x800000000001L);
-    }
-
-    private static void writeRefused() {
-        FlashTree x = mounted();
-        due.same("make", x.make(0, 1), 1);
-        int units = x.units();
-        due.same("no folder", x.write(2, 1, 0, 0), -1);
-        due.same("no folder", x.write(-1, 1, 0, 0), -1);
-        due.same("no folder", x.write(8, 1, 0, 0), -1);
-        due.same("name 0", x.write(0, 0, 0, 0), -1);
-        due.same("name 100", x.write(0, 100, 0, 0), -1);
-        due.same("n -1", x.write(0, 2, -1, 0), -1);
-        due.same("n 7", x.write(0, 2, 7, 0), -1);
-        due.same("n 7 of a folder's name", x.write(0, 1, 7, 0), -1);
-        due.same("a folder's name", x.write(0, 1, 1, 0), -2);
-        due.same("refused: units", x.units(), units);
-        due.same("write", x.write(0, 2, 0, 0), 0);
-        due.same("write", x.write(0, 3, 0, 0), 0);
-        due.same("write", x.write(0, 99, 0, 0), 0);
-        units = x.units();
-        due.same("full", x.write(0, 5, 0, 0), -3);
-        due.same("a folder's name in a full folder", x.write(0, 1, 1, 0), -2);
-        due.same("refused: units", x.units(), units);
-        due.same("a file's name in a full folder", x.write(0, 99, 1, 6), 0);
-        names("full", x, 0, 1, 2, 3, 99);
-    }
-
-    private static void commitAtTheEdgeOfTheBlock() {
-        FlashTree x = mounted();
-        // Five records of 11 bytes end at 58; a record of 6 bytes just fits, one of 7 would not.
-        for (int i = 0; i < 5; i++) {
-            due.same("write", x.write(0, 1, 6, i), 0);
-        }
-        due.same("a record up to the last byte", x.write(0, 1, 1, 200), 0);
-        bytes("up to the last byte", x, 0, 58, 4, 1, 1, 1, 200, 0);
-        due.same("nothing was written anew", x.wear(1), 0);
-        x.on();
-        due.same("mount", x.mount(), 0);
-        due.same("data", x.data(0, 1), 200);
-        int units = x.units();
-        due.same("behind a full block", x.write(0, 2, 0, 0), 0);
-        bytes("written anew", x, 1, 0, 1, 7, 1, 1, 1, 200, 1, 2, 0, 0, 255);
-        due.same("units", x.units() - units, 11);
-        bytes("the old block stays", x, 0, 0, 0, 0, 0, 9);
-
-        FlashTree y = mounted();
-        for (int i = 0; i < 5; i++) {
-            due.same("write", y.write(0, 1, 6, i), 0);
-        }
-        due.same("one byte too many", y.write(0, 1, 2, 0x0201), 0);
-        bytes("one byte too many", y, 0, 58, 255, 255, 255, 255, 255, 255);
-        bytes("written anew", y, 1, 0, 1, 5, 1, 1, 2, 1, 2, 0, 255);
-        for (int i = 0; i < 5; i++) {
-            due.same("write", y.write(0, 1, 6, i), 0);
-        }
-        due.same("and back into the first block", y.write(0, 1, 0, 0), 0);
-        bytes("block 0 again", y, 0, 0, 2, 3, 1, 1, 0, 0, 255);
-        due.same("wear", y.wear(0), 2);
-    }
-
-    private static void commitBehindATornRecord() {
-        for (int k = 1; k < 6; k++) {
-            FlashTree x = mounted();
-            due.same("make", x.make(0, 3), 1);
-            x.cut(k);
-            due.same("write cut", x.write(0, 4, 1, 9), -9);
-            x.on();
-            due.same("mount", x.mount(), 0);
-            names("a torn record does not count", x, 0, 3);
-            due.same("remove", x.remove(0, 3), 0);
-            bytes("written anew, empty", x, 1, 0, 1, 0, 0, 255);
-            names("written anew, empty", x, 0);
-        }
-        // A torn new block leaves the old one active, and is erased again.
-        for (int k = 0; k < 7; k++) {
-            FlashTree x = mounted();
-            x.cut(1);
-            due.same("write cut", x.write(0, 4, 1, 9), -9);
-            x.on();
-            due.same("mount", x.mount(), 0);
-            x.cut(k);
-            due.same("written anew, cut", x.write(0, 4, 1, 9), -9);
-            x.on();
-            due.same("mount", x.mount(), 0);
-            names("a torn block does not count", x, 0);
-            due.same("write", x.write(0, 4, 1, 9), 0);
-            bytes("written anew", x, 1, 0, 1, 4, 1, 4, 1, 9, 0, 255);
-            due.same("wear", x.wear(1), k == 0 ? 1 : 2);
-        }
-    }
-
-    private static void remove() {
-        FlashTree x = mounted();
-        due.same("write", x.write(0, 1, 1, 1), 0);
-        due.same("make", x.make(0, 2), 1);
-        due.same("write", x.write(0, 3, 1, 3), 0);
-        due.same("write", x.write(1, 4, 1, 4), 0);
-        int units = x.units();
-        due.same("no folder", x.remove(2, 1), -1);
-        due.same("no folder", x.remove(-1, 1), -1);
-        due.same("no folder", x.remove(8, 1), -1);
-        due.same("no name", x.remove(0, 4), -1);
-        due.same("no name", x.remove(0, 0), -1);
-        due.same("no name", x.remove(0, -5), -1);
-        due.same("not empty", x.remove(0, 2), -5);
-        due.same("refused: units", x.units(), units);
-        due.same("remove the first", x.remove(0, 1), 0);
-        due.same("units", x.units() - units, 4);
-        bytes("remove", x, 0, 20, 2, 3, 1, 0, 255);
-        names("the others close up", x, 0, 2, 3);
-        due.same("data of what closed up", x.data(0, 3), 3);
-        due.same("child of what closed up", x.child(0, 2), 1);
-        due.same("remove in the folder", x.remove(1, 4), 0);
-        due.same("remove the folder", x.remove(0, 2), 0);
-        due.same("the folder is not there", x.entry(1, 0), -1);
-        names("left", x, 0, 3);
-        due.same("remove the last", x.remove(0, 3), 0);
-        names("none left", x, 0);
-        due.same("removed before", x.remove(0, 3), -1);
-        x.on();
-        due.same("mount", x.mount(), 0);
-        names("none left", x, 0);
-        due.same("free", x.free(), 7);
-    }
-
-    private static void renameWithin() {
-        FlashTree x = mounted();
-        due.same("write", x.write(0, 1, 1, 11), 0);
-        due.same("make", x.make(0, 2), 1);
-        due.same("write", x.write(0, 3, 2, 0x0303), 0);
-        int units = x.units();
-        due.same("same name", x.rename(0, 1, 0, 1), 0);
-        due.same("same name of a folder", x.rename(0, 2, 0, 2), 0);
-        due.same("same name: nothing is done", x.units(), units);
-        due.same("same name that is none", x.rename(0, 9, 0, 9), -1);
-        due.same("file to a new name", x.rename(0, 1, 0, 99), 0);
-        bytes("file to a new name", x, 0, 21, 6, 3, 1, 1, 99, 1, 11, 0, 255);
-        due.same("units", x.units() - units, 8);
-        names("the new name stands last", x, 0, 2, 3, 99);
-        due.same("folder to a new name", x.rename(0, 2, 0, 5), 0);
-        bytes("folder to a new name", x, 0, 29, 5, 3, 2, 2, 5, 1, 0, 255);
-        names("the new name stands last", x, 0, 3, 99, 5);
-        due.same("child", x.child(0, 5), 1);
-        due.same("a file's name", x.rename(0, 5, 0, 3), -2);
-        due.same("a folder's name", x.rename(0, 3, 0, 5), -2);
-        due.same("file in the place of a file", x.rename(0, 3, 0, 99), 0);
-        names("file in the place of a file", x, 0, 99, 5);
-        due.same("data", x.data(0, 99), 0x0303);
-        due.same("write", x.write(0, 1, 0, 0), 0);
-        due.same("write", x.write(0, 2, 0, 0), 0);
-        due.same("in a full folder", x.rename(0, 99, 0, 50), 0);
-        names("in a full folder", x, 0, 5, 1, 2, 50);
-        x.on();
-        due.same("mount", x.mount(), 0);
-        names("mounted", x, 0, 5, 1, 2, 50);
-        due.same("data", x.data(0, 50), 0x0303);
-    }
-
-    private static void renameAcross() {
-        FlashTree x = mounted();
-        due.same("make", x.make(0, 1), 1);
-        due.same("make", x.make(0, 2), 2);
-        due.same("write", x.write(1, 9, 2, 0x0201), 0);
-        due.same("write", x.write(1, 7, 0, 0), 0);
-        int units = x.units();
-        due.same("move a file", x.rename(1, 9, 2, 8), 0);
-        bytes("target", x, 4, 3, 8, 1, 8, 2, 1, 2, 4, 1, 9, 0, 1, 5, 0, 255);
-        bytes("source", x, 2, 15, 2, 3, 9, 0, 255);
-        due.same("units", x.units() - units, 10 + 4 + 3);
-        names("source", x, 1, 7);
-        names("target", x, 2, 8);
-        due.same("data", x.data(2, 8), 0x0201);
-        due.same("move a folder, same name", x.rename(0, 2, 1, 2), 0);
-        bytes("target", x, 2, 19, 6, 2, 2, 2, 4, 0, 2, 0, 1, 5, 0, 255);
-        bytes("source", x, 0, 13, 2, 3, 2, 0, 255);
-        due.same("child", x.child(1, 2), 2);
-        due.same("it is there with what is in it", x.data(2, 8), 0x0201);
-        due.same("free", x.free(), 5);
-        due.same("write", x.write(0, 3, 1, 3), 0);
-        due.same("same name in another folder is a move", x.rename(2, 8, 0, 8), 0);
-        names("source", x, 2);
-        due.same("file in the place of a file", x.rename(0, 8, 1, 7), 0);
-        names("file in the place of a file", x, 1, 7, 2);
-        due.same("data", x.data(1, 7), 0x0201);
-        due.same("up and out of the folder", x.rename(1, 2, 0, 2), 0);
-        names("root", x, 0, 1, 3, 2);
-        x.on();
-        due.same("mount", x.mount(), 0);
-        names("root", x, 0, 1, 3, 2);
-        names("folder 1", x, 1, 7);
-        markInALogWrittenAnew();
-    }
-
-    private static void markInALogWrittenAnew() {
-        FlashTree x = mounted();
-        due.same("make", x.make(0, 1), 1);
-        for (int i = 0; i < 5; i++) {
-            due.same("write", x.write(1, 2, 6, i), 0);
-        }
-        due.same("write", x.write(0, 3, 1, 33), 0);
-        x.cut(2 + 17);
-        due.same("move into a full log, cut behind its first commit", x.rename(0, 3, 1, 4), -9);
-        bytes("with the mark", x, 3, 0, 1, 16, 1, 2, 6, 4, 0, 0, 0, 0, 0, 1, 4, 1, 33, 4, 0, 3, 0xFF);
+        x.entry(0, 0).is(-8);
+        x.entry(9, 0).is(-8);
         x.cut(0);
-        x.on();
-        due.same("cut before the seal: no mark yet", x.mount(), 0);
-        names("source", x, 0, 1, 3);
-        x.cut(2 + 18);
-        due.same("move again", x.rename(0, 3, 1, 4), -9);
-        bytes("sealed", x, 3, 0, 1, 16, 1, 2, 6, 4, 0, 0, 0, 0, 0, 1, 4, 1, 33, 4, 0, 3, 0);
-        x.on();
-        due.same("mount", x.mount(), 0);
-        names("source", x, 0, 1);
-        names("target", x, 1, 2, 4);
-        bytes("no mark", x, 3, 19, 1, 5, 0, 255);
+        x.format().is(-9);
+        x.entry(0, 0).is(-9);
     }
 
-    private static void renameRefused() {
-        FlashTree x = mounted();
-        due.same("make", x.make(0, 1), 1);
-        due.same("make", x.make(0, 2), 2);
-        due.same("write", x.write(0, 3, 0, 0), 0);
-        due.same("write", x.write(1, 3, 0, 0), 0);
-        due.same("make", x.make(1, 4), 3);
-        int units = x.units();
-        due.same("no source", x.rename(5, 3, 0, 9), -1);
-        due.same("no source", x.rename(-1, 3, 0, 9), -1);
-        due.same("no source", x.rename(8, 3, 0, 9), -1);
-        due.same("no target", x.rename(0, 3, 5, 9), -1);
-        due.same("no target", x.rename(0, 3, -1, 9), -1);
-        due.same("no target", x.rename(0, 3, 8, 9), -1);
-        due.same("no name", x.rename(0, 9, 1, 9), -1);
-        due.same("no name", x.rename(0, 0, 0, 0), -1);
-        due.same("to 0", x.rename(0, 3, 1, 0), -1);
-        due.same("to 100", x.rename(0, 3, 1, 100), -1);
-        due.same("to -1", x.rename(0, 3, 0, -1), -1);
-        due.same("file on a folder", x.rename(0, 3, 1, 4), -2);
-        due.same("folder on a file", x.rename(0, 2, 1, 3), -2);
-        due.same("folder on a folder", x.rename(0, 2, 1, 4), -2);
-        due.same("refused: units", x.units(), units);
-        due.same("write", x.write(1, 5, 0, 0), 0);
-        due.same("write", x.write(1, 6, 0, 0), 0);
-        units = x.units();
-        due.same("full, file", x.rename(0, 3, 1, 9), -3);
-        due.same("full, folder", x.rename(0, 2, 1, 9), -3);
-        due.same("taken before full", x.rename(0, 2, 1, 4), -2);
-        due.same("full before into itself", x.rename(0, 1, 1, 9), -3);
-        due.same("taken before into itself", x.rename(0, 1, 1, 4), -2);
-        due.same("refused: units", x.units(), units);
-        due.same("file in the place of a file in a full folder", x.rename(0, 3, 1, 5), 0);
-        names("full", x, 1, 3, 4, 5, 6);
-    }
-
-    private static void renameIntoItself() {
-        FlashTree x = mounted();
-        due.same("make", x.make(0, 1), 1);
-        due.same("make", x.make(1, 1), 2);
-        due.same("make", x.make(2, 1), 3);
-        due.same("make", x.make(0, 2), 4);
-        int units = x.units();
-        due.same("into itself", x.rename(0, 1, 1, 9), -6);
-        due.same("into its child", x.rename(0, 1, 2, 9), -6);
-        due.same("into its child's child", x.rename(0, 1, 3, 9), -6);
-        due.same("lower down", x.rename(1, 1, 3, 9), -6);
-        due.same("refused: units", x.units(), units);
-        due.same("beside it", x.rename(0, 1, 4, 9), 0);
-        due.same("up", x.rename(2, 1, 0, 9), 0);
-        due.same("free", x.free(), 3);
-        due.same("now it is not reached", x.rename(4, 9, 3, 1), 0);
-        due.same("child", x.child(3, 1), 1);
-        due.same("now it is", x.rename(0, 9, 1, 3), -6);
-        due.same("free", x.free(), 3);
-    }
-
-    private static void entryKindSizeDataChild() {
-        FlashTree x = mounted();
-        due.same("write", x.write(0, 1, 2, 0x0201), 0);
-        due.same("make", x.make(0, 2), 1);
-        due.same("entry -1", x.entry(0, -1), 0);
-        due.same("entry 2", x.entry(0, 2), 0);
-        due.same("entry 4", x.entry(0, 4), 0);
-        due.same("entry far", x.entry(0, Integer.MAX_VALUE), 0);
-        due.same("entry far", x.entry(0, Integer.MIN_VALUE), 0);
-        due.same("kind of a file", x.kind(0, 1), 1);
-        due.same("kind of a folder", x.kind(0, 2), 2);
-        due.same("kind of none", x.kind(0, 3), 0);
-        due.same("kind of name 0", x.kind(0, 0), 0);
-        due.same("kind of name 100", x.kind(0, 100), 0);
-        due.same("size of a file", x.size(0, 1), 2);
-        due.same("size of a folder", x.size(0, 2), -1);
-        due.same("size of none", x.size(0, 3), -1);
-        due.same("size of name 0", x.size(0, 0), -1);
-        due.same("data of a file", x.data(0, 1), 0x0201);
-        due.same("data of a folder", x.data(0, 2), -1);
-        due.same("data of none", x.data(0, 3), -1);
-        due.same("child, a file", x.child(0, 1), -1);
-        due.same("child, a folder", x.child(0, 2), 1);
-        due.same("child, none", x.child(0, 3), -1);
-        for (int d : new int[] {-1, 2, 7, 8, Integer.MIN_VALUE, Integer.MAX_VALUE}) {
-            due.same("entry of no folder", x.entry(d, 0), -1);
-            due.same("kind of no folder", x.kind(d, 1), -1);
-            due.same("size of no folder", x.size(d, 1), -1);
-            due.same("data of no folder", x.data(d, 1), -1);
-            due.same("child of no folder", x.child(d, 1), -1);
+    @Says(at = "Promise 12", text = "0 folder d has no such name, 1 it is a file, 2 a folder")
+    static void p12KindOfNoneAFileAndAFolder() {
+        Asked x = fourEntries();
+        x.kind(0, 1).is(1);
+        x.kind(0, 2).is(2);
+        x.kind(0, 3).is(1);
+        x.kind(0, 5).is(0);
+        x.kind(0, 99).is(0);
+        x.kind(1, 1).is(0);
+        for (int name : NO_NAMES) {
+            x.kind(0, name).is(0);
         }
     }
 
-    private static void free() {
-        FlashTree x = mounted();
-        due.same("free", x.free(), 7);
-        due.same("make", x.make(0, 1), 1);
-        due.same("free", x.free(), 6);
-        due.same("make", x.make(1, 1), 2);
-        due.same("free", x.free(), 5);
-        due.same("write", x.write(0, 2, 0, 0), 0);
-        due.same("files take no pair", x.free(), 5);
-        due.same("remove", x.remove(1, 1), 0);
-        due.same("free", x.free(), 6);
+    @Says(at = "Promise 12", text = "-9; -8; -1 d is no folder that is there.")
+    static void p12KindRefused() {
+        Asked x = twoFolders();
+        for (int d : NO_FOLDERS) {
+            x.kind(d, 1).is(-1);
+            x.kind(d, 0).is(-1);
+        }
         x.on();
-        due.same("free unmounted", x.free(), -8);
+        x.kind(0, 1).is(-8);
+        x.kind(9, 1).is(-8);
+        x.cut(0);
+        x.format().is(-9);
+        x.kind(0, 1).is(-9);
     }
 
-    private static void byteAtWearUnits() {
-        FlashTree x = mounted();
-        int[] far = {-1, Integer.MIN_VALUE, Integer.MAX_VALUE};
-        due.same("last byte", x.byteAt(15, 63), 255);
-        due.same("block 16", x.byteAt(16, 0), -1);
-        due.same("offset 64", x.byteAt(0, 64), -1);
-        due.same("wear of the last block", x.wear(15), 0);
-        due.same("wear of block 16", x.wear(16), -1);
-        for (int number : far) {
-            due.same("byteAt, block", x.byteAt(number, 0), -1);
-            due.same("byteAt, offset", x.byteAt(0, number), -1);
-            due.same("wear", x.wear(number), -1);
+    @Says(at = "Promise 13", text = "How many bytes the file has")
+    static void p13SizeOf0To6() {
+        Asked x = mounted();
+        for (int n = 0; n <= 6; n++) {
+            x.write(0, 1, n, 0).is(0);
+            x.size(0, 1).is(n);
         }
+        x.mountAgain();
+        x.size(0, 1).is(6);
+    }
+
+    @Says(at = "Promise 13", text = "-9; -8; -1 d is no folder that is there, or has no file of that name.")
+    static void p13SizeRefused() {
+        Asked x = twoFolders();
+        x.write(0, 3, 0, 0).is(0);
+        for (int d : NO_FOLDERS) {
+            x.size(d, 3).is(-1);
+        }
+        for (int name : NO_NAMES) {
+            x.size(0, name).is(-1);
+        }
+        x.size(0, 1).is(-1);
+        x.size(0, 4).is(-1);
+        x.size(1, 3).is(-1);
+        x.on();
+        x.size(0, 3).is(-8);
+        x.cut(0);
+        x.format().is(-9);
+        x.size(0, 3).is(-9);
+    }
+
+    @Says(at = "Promise 14", text = "The file's bytes, the first the lowest, 0 if it has none")
+    static void p14DataOfNoneAndOfSixBytes() {
+        Asked x = mounted();
+        x.write(0, 1, 6, 0x060504030201L).is(0);
+        x.data(0, 1).is(0x060504030201L);
+        x.write(0, 2, 6, -1).is(0);
+        x.data(0, 2).is(0xFFFFFFFFFFFFL);
+        x.write(0, 3, 2, 0x80FF).is(0);
+        x.data(0, 3).is(0x80FF);
+        x.write(0, 4, 0, -1).is(0);
+        x.data(0, 4).is(0);
+        x.mountAgain();
+        x.data(0, 1).is(0x060504030201L);
+        x.data(0, 2).is(0xFFFFFFFFFFFFL);
+        x.data(0, 3).is(0x80FF);
+        x.data(0, 4).is(0);
+        x.write(0, 1, 0, 0).is(0);
+        x.data(0, 1).is(0);
+    }
+
+    @Says(at = "Promise 14", text = "-9; -8; -1 as size.")
+    static void p14DataRefused() {
+        Asked x = twoFolders();
+        x.write(0, 3, 0, 0).is(0);
+        for (int d : NO_FOLDERS) {
+            x.data(d, 3).is(-1);
+        }
+        for (int name : NO_NAMES) {
+            x.data(0, name).is(-1);
+        }
+        x.data(0, 1).is(-1);
+        x.data(0, 4).is(-1);
+        x.data(1, 3).is(-1);
+        x.on();
+        x.data(0, 3).is(-8);
+        x.cut(0);
+        x.format().is(-9);
+        x.data(0, 3).is(-9);
+    }
+
+    @Says(at = "Promise 15", text = "The pair of the folder of that name")
+    static void p15ChildOf1To7() {
+        Asked x = eightFolders();
+        for (int q = 0; q < 7; q++) {
+            x.child(q, 1).is(q + 1);
+        }
+        x.mountAgain();
+        for (int q = 0; q < 7; q++) {
+            x.child(q, 1).is(q + 1);
+        }
+        x.rename(6, 1, 0, 99).is(0);
+        x.child(0, 99).is(7);
+    }
+
+    @Says(at = "Promise 15", text = "-9; -8; -1 d is no folder that is there, or has no folder of that name.")
+    static void p15ChildRefused() {
+        Asked x = twoFolders();
+        x.write(0, 3, 1, 1).is(0);
+        for (int d : NO_FOLDERS) {
+            x.child(d, 1).is(-1);
+        }
+        for (int name : NO_NAMES) {
+            x.child(0, name).is(-1);
+        }
+        x.child(0, 3).is(-1);
+        x.child(0, 4).is(-1);
+        x.child(1, 1).is(-1);
+        x.on();
+        x.child(0, 1).is(-8);
+        x.cut(0);
+        x.format().is(-9);
+        x.child(0, 1).is(-9);
+    }
+
+    @Says(at = "Promise 16", text = "How many pairs are free; -9; -8.")
+    static void p16FreeFrom7To0() {
+        Asked x = fresh();
+        x.free().is(-8);
+        x.format().is(0);
+        x.free().is(-8);
+        x.mount().is(0);
+        x.free().is(7);
+        for (int q = 1; q < 8; q++) {
+            x.make(q - 1, 1).is(q);
+            x.write(q, 2, 0, 0).is(0);
+            x.free().is(7 - q);
+        }
+        x.remove(7, 2).is(0);
+        x.free().is(0);
+        x.remove(6, 1).is(0);
+        x.free().is(1);
+        x.rename(5, 1, 0, 5).is(0);
+        x.free().is(1);
+        x.cut(0);
+        x.remove(6, 2).is(-9);
+        x.free().is(-9);
+        x.on();
+        x.free().is(-8);
+    }
+
+    // 17 to 19: the flash
+
+    @Says(at = "Promise 17", text = "A byte of the flash, 0 .. 255; -1 if there is none.")
+    static void p17ByteAtTheEdges() {
+        Asked x = mounted();
+        x.write(0, 1, 2, 0xFF80).is(0);
+        x.bytes(0, 3, 5, 1, 1, 2, 128, 255, 0, 255);
+        x.byteAt(0, 0).is(0);
+        x.byteAt(0, 63).is(255);
+        x.byteAt(15, 0).is(255);
+        x.byteAt(15, 63).is(255);
+        for (int number : new int[] {-1, -64, 64, 1024, Integer.MIN_VALUE, Integer.MAX_VALUE}) {
+            x.byteAt(number, 0).is(-1);
+            x.byteAt(0, number).is(-1);
+            x.byteAt(number, number).is(-1);
+        }
+        x.byteAt(16, 0).is(-1);
+        x.byteAt(16, -64).is(-1);
+        x.byteAt(-1, 64).is(-1);
+        x.byteAt(1 << 26, 0).is(-1);
+    }
+
+    @Says(at = "Promise 17", text = "Also while the power is off.")
+    static void p17ByteAtAlsoWhileThePowerIsOff() {
+        Asked x = mounted();
         x.cut(3);
-        due.same("write cut", x.write(0, 5, 1, 6), -9);
-        due.same("byteAt while off", x.byteAt(0, 5), 5);
-        due.same("byteAt while off: not programmed", x.byteAt(0, 6), 255);
-        due.same("byteAt while off: none", x.byteAt(16, 0), -1);
-        due.same("wear while off", x.wear(0), 1);
-        due.same("wear while off: none", x.wear(16), -1);
-        due.same("units while off", x.units(), 7);
-        x.on();
-        x.cut(0);
-        due.same("format cut before the erasing", x.format(), -9);
-        due.same("wear of a block that was not erased", x.wear(1), 0);
-        due.same("units", x.units(), 7);
+        x.write(0, 5, 1, 6).is(-9);
+        x.bytes(0, 0, 0, 0, 0, 4, 1, 5, 255);
+        x.byteAt(16, 0).is(-1);
+        x.byteAt(0, 64).is(-1);
+        x.byteAt(15, 63).is(255);
     }
 
-    private static void refusedInOrder() {
-        FlashTree x = new FlashTree();
-        allAnswer("unmounted", x, -8);
-        due.same("format", x.format(), 0);
-        allAnswer("formatted", x, -8);
-        due.same("mount", x.mount(), 0);
-        allAnswer("wrong numbers", x, -1);
-        x.cut(0);
-        due.same("make", x.make(0, 1), -9);
-        allAnswer("off", x, -9);
-        due.same("off: free", x.free(), -9);
-        due.same("off: format", x.format(), -9);
-        due.same("off: mount", x.mount(), -9);
-        due.same("off: units", x.units(), 4);
-        x.on();
-        allAnswer("on", x, -8);
-        due.same("on: free", x.free(), -8);
+    @Says(at = "Promise 18", text = "How often a block was erased; -1 if there is none.")
+    static void p18WearOfEveryBlock() {
+        Asked x = eightFolders();
+        for (int block = 0; block < 16; block++) {
+            x.wear(block).is(block % 2 == 0 ? 1 : 0);
+        }
+        for (int block : new int[] {-1, 16, 17, Integer.MIN_VALUE, Integer.MAX_VALUE}) {
+            x.wear(block).is(-1);
+        }
+        for (int i = 0; i < 5; i++) {
+            x.format().is(0);
+        }
+        x.wear(0).is(1 + 2);
+        x.wear(1).is(3);
     }
 
-    /** Calls with wrong numbers, which are refused with -9 or -8 first where one of these is due. */
-    private static void allAnswer(String when, FlashTree x, int want) {
-        due.same(when + ": make", x.make(-1, 0), want);
-        due.same(when + ": write", x.write(0, 0, 9, 0), want);
-        due.same(when + ": remove", x.remove(9, 1), want);
-        due.same(when + ": rename", x.rename(0, 1, 0, 1), want);
-        due.same(when + ": entry", x.entry(9, 0), want);
-        due.same(when + ": kind", x.kind(9, 1), want);
-        due.same(when + ": size", x.size(0, 1), want);
-        due.same(when + ": data", x.data(0, 1), want);
-        due.same(when + ": child", x.child(0, 1), want);
+    @Says(at = "Promise 18", text = "Also while the power is off.")
+    static void p18WearAlsoWhileThePowerIsOff() {
+        Asked x = mounted();
+        x.cut(0);
+        x.format().is(-9);
+        x.wear(1).is(0);
+        x.on();
+        x.cut(1);
+        x.format().is(-9);
+        x.wear(0).is(1);
+        x.wear(1).is(1);
+        x.wear(15).is(0);
+        x.wear(16).is(-1);
+        x.wear(-1).is(-1);
+    }
+
+    @Says(at = "Promise 19", text = "How many units were done.")
+    static void p19UnitsOfEveryCall() {
+        Asked x = fresh();
+        x.units().is(0);
+        x.mount().is(-7);
+        x.units().is(0);
+        x.format().is(0);
+        x.units().is(4);
+        x.mount().is(0);
+        x.units().is(4);
+        x.make(0, 1).is(1);
+        x.units().is(13);
+        x.write(0, 2, 3, 0).is(0);
+        x.units().is(21);
+        x.rename(0, 2, 0, 3).is(0);
+        x.units().is(31);
+        x.rename(0, 3, 1, 3).is(0);
+        x.units().is(31 + 11 + 4 + 3);
+        x.remove(1, 3).is(0);
+        x.units().is(53);
+        x.remove(1, 3).is(-1);
+        x.units().is(53);
+    }
+
+    @Says(at = "Promise 19", text = "Also while the power is off.")
+    static void p19UnitsAlsoWhileThePowerIsOff() {
+        Asked x = fresh();
+        x.cut(0);
+        x.format().is(-9);
+        x.units().is(0);
+        x.format().is(-9);
+        x.units().is(0);
+        x.on();
+        x.units().is(0);
+        x.cut(3);
+        x.format().is(-9);
+        x.units().is(3);
+        x.on();
+        x.format().is(0);
+        x.units().is(7);
     }
 }
