@@ -65,26 +65,55 @@ public final class ModelTest {
 
     private void step() {
         if (m.off()) {
-            if (random.nextInt(3) == 0) {
-                ask();
-            }
-            calls++;
-            x.on();
-            m.on();
-            same("mount()", x.mount(), m.mount());
+            powerBack();
             return;
         }
         if (random.nextInt(cutOdds) == 0) {
-            int k = random.nextInt(30) - 1;
-            calls++;
-            x.cut(k);
-            m.cut(k);
+            cut();
+        }
+        if (random.nextInt(60) == 0) {
+            on();
         }
         if (random.nextInt(3) == 0) {
             ask();
+        } else if (m.free() == -8 && random.nextInt(3) == 0) {
+            same("mount()", x.mount(), m.mount());
         } else {
             change();
         }
+    }
+
+    /** While the power is off much may be asked and little is done; then it comes back, and mostly all is mounted. */
+    private void powerBack() {
+        if (random.nextInt(4) == 0) {
+            change();
+        }
+        if (random.nextInt(3) == 0) {
+            ask();
+        }
+        if (random.nextInt(4) == 0) {
+            cut();
+        }
+        on();
+        int next = random.nextInt(12);
+        if (next == 0) {
+            same("format()", x.format(), m.format());
+        } else if (next > 1) {
+            same("mount()", x.mount(), m.mount());
+        }
+    }
+
+    private void cut() {
+        int k = random.nextInt(30) - 1;
+        calls++;
+        x.cut(k);
+        m.cut(k);
+    }
+
+    private void on() {
+        calls++;
+        x.on();
+        m.on();
     }
 
     private void change() {
@@ -94,8 +123,9 @@ public final class ModelTest {
             case 0 -> {
                 if (random.nextInt(10) == 0) {
                     same("format()", x.format(), m.format());
+                } else {
+                    same("mount()", x.mount(), m.mount());
                 }
-                same("mount()", x.mount(), m.mount());
             }
             case 1, 2, 3, 4, 5, 6 -> same("make(" + d + ", " + name + ")", x.make(d, name), m.make(d, name));
             case 7, 8, 9, 10, 11, 12, 13, 14 -> {
