@@ -24,7 +24,9 @@ public final class FaceTest {
     public static void main(String[] args) throws IOException {
         face();
         nestedClasses();
-        source(Files.readString(Path.of("src/main/java/FlashTree.java")));
+        String source = Files.readString(Path.of("src/main/java/FlashTree.java"));
+        asTheDocumentWritesIt(Files.readString(Path.of("../shared/DOC.md")), source);
+        words(source);
         due.end();
     }
 
@@ -72,7 +74,20 @@ public final class FaceTest {
         }
     }
 
-    private static void source(String text) {
+    /** Word by word, with the names of the parameters. */
+    private static void asTheDocumentWritesIt(String document, String source) {
+        Matcher block = Pattern.compile("(?s)## The public face\\s+```java\n(.*?)```").matcher(document);
+        due.holds("the document has a face", block.find());
+        Matcher member = Pattern.compile("public (.*);").matcher(block.group(1));
+        int members = 0;
+        while (member.find()) {
+            members++;
+            due.holds("the face: " + member.group(), source.contains("\n    public " + member.group(1) + " {\n"));
+        }
+        due.same("members of the face, with the constructor", members, FACE.size() + 1);
+    }
+
+    private static void words(String text) {
         String code = text.replaceAll("(?s)/\\*.*?\\*/", " ").replaceAll("//[^\n]*", " ");
         Matcher word = Pattern.compile("\\b(import|package|throw|throws|try|catch|synchronized|assert|"
             + "equals|hashCode|toString|Object|System|float|double|transient|volatile|native)\\b|->|::").matcher(code);

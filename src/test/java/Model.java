@@ -370,16 +370,4 @@ final class Model {
             if (what[0] == 2) walk(what[1], found);
         }
     }
-
-    /** The tree as a text, to be told apart from another one. */
-    String tree() {
-        return tree(0);
-    }
-
-    private String tree(int q) {
-        StringBuilder text = new StringBuilder("(");
-        read(q).entries.forEach((name, what) -> text.append(name).append(what[0] == 2
-            ? tree(what[1]) : Arrays.toString(what)).append(' '));
-        return text.append(')').toString();
-    }
 }

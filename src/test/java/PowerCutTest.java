@@ -1,5 +1,6 @@
 import java.util.ArrayList;
 import java.util.List;
+import java.util.Random;
 
 /** Cuts calls off behind every unit: then the tree is the one from before the call, or the one that it would leave. */
 public final class PowerCutTest extends Sentences {
@@ -18,6 +19,8 @@ public final class PowerCutTest extends Sentences {
         x -> x.rename(1, 9, 2, 9), x -> x.rename(1, 9, 0, 9), x -> x.rename(1, 3, 2, 3),
         x -> x.rename(2, 9, 3, 7), x -> x.rename(0, 2, 3, 2));
     private static final int MOST_PADDING = 6;
+    private static final int TREES = 200;
+    private static final int CALLS_BEFORE_A_CUT = 50;
 
     public static void main(String[] args) throws Exception {
         run(PowerCutTest.class);
@@ -51,6 +54,61 @@ public final class PowerCutTest extends Sentences {
             cutEverywhere("cut " + again + " times more", SET_UP, MOVES.get(0), again);
             cutEverywhere("cut " + again + " times more", SET_UP, MOVES.get(2), again);
         }
+    }
+
+    @Says(at = "What it is", text = "outlives a power failure at any byte")
+    static void anyTreeOutlivesAPowerFailureAtAnyByte() {
+        for (int seed = 0; seed < TREES; seed++) {
+            Random random = new Random(seed);
+            FlashTree x = new FlashTree();
+            List<Call> setUp = new ArrayList<>(SET_UP);
+            setUp.forEach(call -> call.on(x));
+            for (int i = random.nextInt(CALLS_BEFORE_A_CUT); i > 0; i--) {
+                Call call = random.nextInt(5) == 0 ? cutOff(drawn(random), random.nextInt(16)) : drawn(random);
+                if (call.on(x) >= 0) {
+                    setUp.add(call);
+                }
+            }
+            Call change = drawn(random);
+            while (!changes(setUp, change)) {
+                change = drawn(random);
+            }
+            cutEverywhere("tree " + seed, setUp, change, seed % 4);
+        }
+    }
+
+    private static boolean changes(List<Call> setUp, Call call) {
+        FlashTree x = prepared("drawn", setUp);
+        String before = tree(x);
+        return call.on(x) >= 0 && !tree(x).equals(before);
+    }
+
+    /** A call that most trees of the folders 0 to 7 allow now and then; the numbers are drawn once for all objects. */
+    private static Call drawn(Random random) {
+        int kind = random.nextInt(8);
+        int d = random.nextInt(3) == 0 ? 0 : random.nextInt(8);
+        int e = random.nextInt(3) == 0 ? d : random.nextInt(8);
+        int name = 1 + random.nextInt(9);
+        int to = 1 + random.nextInt(9);
+        int n = random.nextInt(7);
+        long v = random.nextLong();
+        return switch (kind) {
+            case 0, 1 -> x -> x.make(d, name);
+            case 2, 3 -> x -> x.write(d, name, n, v);
+            case 4 -> x -> x.remove(d, name);
+            default -> x -> x.rename(d, name, e, to);
+        };
+    }
+
+    /** Leaves what a power failure leaves: a torn record, a block half written anew, or a move that mount ended. */
+    private static Call cutOff(Call call, int k) {
+        return x -> {
+            x.cut(k);
+            call.on(x);
+            x.cut(-1);
+            x.on();
+            return x.mount();
+        };
     }
 
     /** Writes more into the logs, so that other commits come upon a full block. */
